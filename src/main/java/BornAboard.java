@@ -39,7 +39,7 @@ public final class BornAboard {
     private final People spare = new People();
     private final Acts acts = new Acts();
     private Line line = new Line();
-    private final Day day = new Day(line, now);
+    private final Day day = new Day();
     private final Hirings hirings = new Hirings();
     private final int[] refused = new int[REFUSALS];
     private final int[] written = new int[HEAD + PEOPLE * PERSON_BYTES + 1];
@@ -817,8 +817,14 @@ public final class BornAboard {
             return bits;
         }
 
-        boolean isBornBetween(int p, int one, int other) {
-            return born[p] == one && second[p] == other || born[p] == other && second[p] == one;
+        int bornBetween(int one, int other) {
+            int bits = 0;
+            for (int p = 0; p < count; p++) {
+                if (born[p] == one && second[p] == other || born[p] == other && second[p] == one) {
+                    bits |= 1 << p;
+                }
+            }
+            return bits;
         }
 
         int countAt(int station) {
@@ -1372,16 +1378,8 @@ public final class BornAboard {
             for (int k = line.lengths[t] - 1; k >= 0; k--) {
                 later[t][k] = wishes;
                 wishes |= wishAt[line.calls[t][k]];
-                between[t][k] = k == 0 ? 0 : bornBetween(people, line.calls[t][k - 1], line.calls[t][k]);
+                between[t][k] = k == 0 ? 0 : people.bornBetween(line.calls[t][k - 1], line.calls[t][k]);
             }
-        }
-
-        private static int bornBetween(People people, int one, int other) {
-            int bits = 0;
-            for (int p = 0; p < people.count; p++) {
-                bits |= people.isBornBetween(p, one, other) ? 1 << p : 0;
-            }
-            return bits;
         }
     }
 
@@ -1432,18 +1430,13 @@ public final class BornAboard {
         private final int[] due = new int[TRAINS];
         private final int[] aboard = new int[TRAINS];
         private final int[] here = new int[STATIONS];
-        private Line line;
-        private People people;
+        private Line line = new Line();
+        private People people = new People();
         private int hired = 0;
         private int keeping = 0;
         private int ridden = 0;
         private int called = 0;
         private int served = 0;
-
-        Day(Line line, People people) {
-            this.line = line;
-            this.people = people;
-        }
 
         /** Whose day it is; many may then go by from the same start. */
         void prepare(Line line, People people) {
