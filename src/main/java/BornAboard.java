@@ -1335,18 +1335,23 @@ public final class BornAboard {
         }
 
         void save(People people) {
-            saved[top].copy(people);
-            top = (top + 1) % ACTS;
-            count = Math.min(count + 1, ACTS);
+            People slot = saved[top];
+            if (slot != null) {
+                slot.copy(people);
+                top = (top + 1) % ACTS;
+                count = Math.min(count + 1, ACTS);
+            }
         }
 
         boolean restore(People people) {
-            if (count == 0) {
+            int latest = (top + ACTS - 1) % ACTS;
+            People slot = saved[latest];
+            if (count == 0 || slot == null) {
                 return false;
             }
+            people.copy(slot);
+            top = latest;
             count--;
-            top = (top + ACTS - 1) % ACTS;
-            people.copy(saved[top]);
             return true;
         }
     }

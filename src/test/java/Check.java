@@ -28,14 +28,20 @@ final class Check {
         }
     }
 
+    /** Twenty bytes from the k-th on, as feed() takes them; blanks behind the last one. */
+    static int[] packed(int[] bytes, int k) {
+        int[] n = new int[5];
+        for (int j = 0; j < 20; j++) {
+            int b = k + j < bytes.length ? bytes[k + j] : 32;
+            n[j / 4] = n[j / 4] << 8 | b & 255;
+        }
+        return n;
+    }
+
     /** Puts bytes on the tape, whole. */
     static void put(BornAboard x, int... bytes) {
         for (int k = 0; k < bytes.length; k += 20) {
-            int[] n = new int[5];
-            for (int j = 0; j < 20; j++) {
-                int b = k + j < bytes.length ? bytes[k + j] : 32;
-                n[j / 4] = n[j / 4] << 8 | b & 255;
-            }
+            int[] n = packed(bytes, k);
             x.feed(n[0], n[1], n[2], n[3], n[4]);
         }
         x.end(bytes.length);

@@ -9,10 +9,7 @@ public final class FullTest {
         Model m = new Model();
         int[] bytes = text.chars().toArray();
         for (int k = 0; k < bytes.length; k += 20) {
-            int[] n = new int[5];
-            for (int j = 0; j < 20; j++) {
-                n[j / 4] = n[j / 4] << 8 | (k + j < bytes.length ? bytes[k + j] : 32);
-            }
+            int[] n = Check.packed(bytes, k);
             x.feed(n[0], n[1], n[2], n[3], n[4]);
             m.feed(n[0], n[1], n[2], n[3], n[4]);
         }

@@ -38,10 +38,7 @@ public final class ModelTest {
     private void putBoth(BornAboard x, Model m, int[] bytes, String where) {
         check.is(where + " end(0)", x.end(0), m.end(0));
         for (int k = 0; k < bytes.length; k += 20) {
-            int[] n = new int[5];
-            for (int j = 0; j < 20; j++) {
-                n[j / 4] = n[j / 4] << 8 | (k + j < bytes.length ? bytes[k + j] : 0);
-            }
+            int[] n = Check.packed(bytes, k);
             check.is(where + " feed", x.feed(n[0], n[1], n[2], n[3], n[4]), m.feed(n[0], n[1], n[2], n[3], n[4]));
         }
         check.is(where + " end", x.end(bytes.length), m.end(bytes.length));
