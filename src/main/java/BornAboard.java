@@ -937,7 +937,10 @@ public final class BornAboard {
         }
     }
 
-    /** The text cut into words, numbers and semicolons; what can be none of these is BAD, and the last one. */
+    /**
+     * The text cut into words, numbers and semicolons; what can be none of these is BAD, and the last one.
+     * A BAD one's value is how far behind its first byte no line goes on.
+     */
     private static final class Tokens {
         static final int END = 0;
         static final int STATION = 1;
@@ -994,13 +997,18 @@ public final class BornAboard {
                 add(SEMICOLON, start, 0);
                 return start + 1;
             }
-            if (isLetter(b)) {
+            boolean apart = start != edge;
+            if (apart && isLetter(b)) {
                 return addWord(tape, start);
             }
-            if (isDigit(b)) {
+            if (apart && isDigit(b)) {
                 return addNumber(tape, start);
             }
-            add(BAD, start, 0);
+            return addBad(tape, start, 0);
+        }
+
+        private int addBad(Tape tape, int start, int good) {
+            add(BAD, start, good);
             return tape.length;
         }
 
@@ -1015,8 +1023,7 @@ public final class BornAboard {
             }
             int own = ownWord(tape, start, end - start);
             if (own == NONE && end - start > LETTERS) {
-                add(BAD, start + LETTERS, 0);
-                return tape.length;
+                return addBad(tape, start, LETTERS);
             }
             return addWhole(own == NONE ? NAME : own, start, end, name);
         }
@@ -1026,8 +1033,7 @@ public final class BornAboard {
             int number = 0;
             while (end < tape.length && isDigit(tape.bytes[end])) {
                 if (end - start == DIGITS) {
-                    add(BAD, end, 0);
-                    return tape.length;
+                    return addBad(tape, start, DIGITS);
                 }
                 number = number * 10 + tape.bytes[end] - '0';
                 end++;
@@ -1036,7 +1042,7 @@ public final class BornAboard {
         }
 
         private int addWhole(int kind, int start, int end, int value) {
-            add(start == edge ? BAD : kind, start, value);
+            add(kind, start, value);
             edge = end;
             return end;
         }
@@ -1131,19 +1137,19 @@ public final class BornAboard {
         private boolean fail(int kind) {
             fault = kind;
             place = index < tokens.starts.length ? tokens.starts[index] : NONE;
+            // A 91st statement is told at its first byte even where a word in it gets too long.
+            if (kind == 1 && kind() == Tokens.BAD) {
+                place += tokens.values[index];
+            }
             return false;
         }
 
         private boolean readStatement() {
-            int kind = kind();
-            if (kind != Tokens.STATION && kind != Tokens.STOP && kind != Tokens.TRAIN && kind != Tokens.PERSON) {
-                return fail(1);
-            }
             if (draft.statements >= STATEMENTS) {
                 return fail(5);
             }
             boolean sound;
-            switch (kind) {
+            switch (kind()) {
                 case Tokens.STATION:
                     sound = readStation();
                     break;
@@ -1153,9 +1159,11 @@ public final class BornAboard {
                 case Tokens.TRAIN:
                     sound = readTrain();
                     break;
-                default:
+                case Tokens.PERSON:
                     sound = readPerson();
                     break;
+                default:
+                    return fail(1);
             }
             draft.statements++;
             return sound && take(Tokens.SEMICOLON);

@@ -150,6 +150,24 @@ public final class FaultTest {
         fault("train t from5 seats", 1, 12);
         fault("train t from 5seats", 1, 14);
         fault(AB + "person p age 1born a", 1, 34);
+        // The blank that lacks is ahead of the letter or digit that is too many.
+        fault("stop 5abcdefg", 1, 6);
+        fault("stop 5stationx", 1, 6);
+        fault("stop 5station a;", 1, 6);
+        fault("stop12345;", 1, 4);
+        fault("station a12345;", 1, 9);
+        fault("station12345", 1, 7);
+        fault("stop 1234abcdefg", 4, 5);
+        fault("stop 31abcdefg", 4, 5);
+        fault("stop 12345abcdefg", 1, 9);
+        fault("station abcdefg12345", 1, 14);
+        fault("train t from 5abcdefgh", 1, 14);
+        fault(AB + "train t from 1 seats 1 calls a after 5stationx", 1, 58);
+        fault(AB + "person p age 1 born a12345", 1, 41);
+        fault("stop 5 abcdefg", 1, 13);
+        fault("stop 5;abcdefg", 1, 13);
+        fault("stop 5;12345", 1, 11);
+        fault("stop 5" + (char) 233, 1, 6);
     }
 
     private void births() {
@@ -218,18 +236,39 @@ public final class FaultTest {
         fault(stops + "stop 5;", 5, 630);
         fault(stops + " stop", 5, 631);
         fault(stops + "station a;", 5, 630);
-        fault(stops + ";", 1, 630);
+        behindNinety(stops);
         // Tapes that are full.
         fault(";".repeat(1600), 1, 0);
         fault("a ".repeat(800), 1, 0);
         fault("a".repeat(1600), 1, 6);
         fault("1".repeat(1600), 1, 4);
-        fault(stops + " ".repeat(969) + "a", 1, 1599);
+        fault(stops + " ".repeat(969) + "a", 5, 1599);
         fault(stops + " ".repeat(962) + "station ", 5, 1592);
         sound(stops + " ".repeat(970), 90);
         fault("stop 5;".repeat(10) + " ".repeat(1526) + "stop", 1, 1600);
         fault("stop 5;".repeat(10) + " ".repeat(1525) + "stop1", 1, 1599);
         sound("stop 5;".repeat(10) + " ".repeat(1523) + "stop 1;", 11);
+    }
+
+    /** Whatever begins there is the 91st statement, told at its first byte. */
+    private void behindNinety(String stops) {
+        for (String more : new String[] {"x", "abcdefg", "abcdefgh;", "stationx", "from", "12", "12345", ";", "!", "\u0000",
+            "" + (char) 255, "station station;", "stop 99;", "x".repeat(900)}) {
+            fault(stops + more, 5, 630);
+            fault(stops + " \n" + more, 5, 632);
+        }
+        sound(stops + " \n\n ", 90);
+        // The 90th one is read as any other.
+        String some = "stop 5;".repeat(89);
+        fault(some + "x", 1, 623);
+        fault(some + "abcdefg", 1, 629);
+        fault(some + "12345", 1, 627);
+        fault(some + ";", 1, 623);
+        fault(some + "stop 5", 1, 629);
+        fault(some + "stop 5abcdefg", 1, 629);
+        fault(some + "stop 5 abcdefg", 1, 636);
+        fault(some + "stop 31;abcdefg", 4, 628);
+        sound(some + "station a ;", 90);
     }
 
     private void faultKept() {

@@ -276,7 +276,7 @@ final class Model {
                 if (limit < 0) {
                     throw new Wrong(1, start);
                 }
-                if (limit == 0 || w.statements == 90) {
+                if (limit == 0) {
                     throw new Wrong(5, start);
                 }
                 String kind = thing;
@@ -348,6 +348,12 @@ final class Model {
                 thing = "";
                 return;
             }
+            if (w.statements == 90 && thing.equals(";")) {
+                throw new Wrong(5, start);
+            }
+            if (touching && rest.charAt(0) != ';') {
+                throw new Wrong(1, start);
+            }
             java.util.regex.Matcher m = java.util.regex.Pattern.compile("^([a-z]+|[0-9]+|;)").matcher(rest);
             if (!m.find()) {
                 throw new Wrong(1, start);
@@ -360,9 +366,6 @@ final class Model {
             }
             if (isNumber && thing.length() > 4) {
                 throw new Wrong(1, start + 4);
-            }
-            if (touching && (isWord || isNumber)) {
-                throw new Wrong(1, start);
             }
             pos += thing.length();
         }

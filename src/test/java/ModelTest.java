@@ -24,6 +24,9 @@ public final class ModelTest {
             String text = texts.sound(5);
             tellBoth(x, m, n % 5 == 0 ? text : texts.spoilt(text), "text " + seed + "/" + n);
         }
+        for (int n = 0; n < 3; n++) {
+            tellBoth(x, m, texts.ninety(), "ninety " + seed + "/" + n);
+        }
     }
 
     private void tellBoth(BornAboard x, Model m, String text, String where) {

@@ -73,6 +73,19 @@ final class Texts {
             + name("s", random.nextInt(stations)) + " price " + price;
     }
 
+    /** Some ninety statements, and what may stand behind them. */
+    String ninety() {
+        StringBuilder text = new StringBuilder("station a;");
+        for (int n = 88 + random.nextInt(3); n > 1; n--) {
+            text.append("stop ").append(1 + random.nextInt(9)).append(random.nextInt(30) == 0 ? " ; " : ";");
+        }
+        for (int n = random.nextInt(4); n > 0; n--) {
+            text.append(random.nextBoolean() ? "stop 5;" : WORDS[random.nextInt(WORDS.length)]);
+            text.append(random.nextBoolean() ? " " : "");
+        }
+        return text.toString();
+    }
+
     /** A text with one thing or two spoilt: a byte, a word, or its end. */
     String spoilt(String text) {
         String spoilt = text;
@@ -87,7 +100,7 @@ final class Texts {
             return ";";
         }
         int at = random.nextInt(text.length());
-        switch (random.nextInt(7)) {
+        switch (random.nextInt(8)) {
             case 0:
                 return text.substring(0, at);
             case 1:
@@ -98,6 +111,8 @@ final class Texts {
                 return text.substring(0, at) + "az09; \n".charAt(random.nextInt(7)) + text.substring(at);
             case 4:
                 return text.substring(0, at) + text.substring(random.nextInt(text.length()));
+            case 5:
+                return text.substring(0, at) + WORDS[random.nextInt(WORDS.length)] + text.substring(at);
             default:
                 return otherWord(text);
         }
