@@ -90,10 +90,7 @@ public final class ActsTest {
         check.is("YEAR", x.has(6), 40);
         check.is("one act", x.has(8), 1);
         BornAboard late = new BornAboard();
-        // YEAR 9990 of nobody.
-        int c = (5 * ((5 * 67 + 9990 / 256) % 249) + 9990 % 256) % 249;
-        Check.put(late, 9990 / 256, 9990 % 256, c);
-        check.is("on()", late.on(), true);
+        Check.toYear(late, 9990);
         check.is("YEAR", late.has(6), 9990);
         check.is("beyond 9999", late.years(10), -1);
         check.is("to 9999", late.years(9), 0);
@@ -102,26 +99,12 @@ public final class ActsTest {
         check.is("status(3)", late.status(3), 2);
     }
 
-    static long next(long x) {
-        return (1103515245L * x + 12345L) % 2147483648L;
-    }
-
-    /** A seed whose next draw is this one. */
-    static int seedFor(int draw) {
-        for (int seed = 1; seed < 1000000; seed++) {
-            if (next(seed) / 64 % 100 == draw) {
-                return seed;
-            }
-        }
-        throw new IllegalStateException("no seed draws " + draw);
-    }
-
     private void deathAndBirth() {
         String text = "station a;station b;station c;person p age 50 born a at b to c price 5;"
             + "person q age 0 born a c at b to c price 0;";
         BornAboard x = Check.of(text);
         x.hire(0, true);
-        int seed = seedFor(49);
+        int seed = Draws.seedFor(49);
         x.seed(seed);
         check.is("a draw below his age", x.years(1), 1);
         int[] due = {0, 1, -1, 1, 0, 5, 1};
@@ -130,14 +113,14 @@ public final class ActsTest {
         }
         check.is("the other's age", x.person(1, 0), 1);
         check.is("the other's birth", x.person(1, 2), 2);
-        check.is("a DRAW each", x.has(9), next(next(seed)));
+        check.is("a DRAW each", x.has(9), Draws.next(Draws.next(seed)));
         x.undo();
-        x.seed(seedFor(50));
+        x.seed(Draws.seedFor(50));
         check.is("a draw that is his age", x.years(1), 0);
         check.is("a year older", x.person(0, 0), 51);
         check.is("born there still", x.person(0, 1), 0);
         BornAboard between = Check.of("station a;station b;station c;person p age 50 born a c at b to c price 5;");
-        between.seed(seedFor(0));
+        between.seed(Draws.seedFor(0));
         check.is("born between two", between.years(1), 1);
         check.is("the child's birth", between.person(0, 1), 1);
         check.is("no second one", between.person(0, 2), -1);
@@ -160,16 +143,11 @@ public final class ActsTest {
 
     private void oldest() {
         BornAboard x = Check.of("station a;person p age 99 born a at a to a price 0;person q age 98 born a at a to a price 0;");
-        for (int seed = 1; seed < 1000000; seed++) {
-            if (next(seed) / 64 % 100 == 99 && next(next(seed)) / 64 % 100 >= 98) {
-                x.seed(seed);
-                break;
-            }
-        }
+        x.seed(Draws.seedFor(99, 98));
         check.is("nobody dies", x.years(1), 0);
         check.is("99 at most", x.person(0, 0), 99);
         check.is("98 and 1", x.person(1, 0), 99);
-        x.seed(seedFor(98));
+        x.seed(Draws.seedFor(98));
         check.is("98 is below 99", x.years(1) > 0, true);
         check.is("a child", x.person(0, 0), 0);
     }
@@ -231,7 +209,7 @@ public final class ActsTest {
         check.is("seed most", x.seed(Integer.MAX_VALUE), true);
         check.is("it", x.has(9), Integer.MAX_VALUE);
         x.years(1);
-        check.is("behind most", x.has(9), next(Integer.MAX_VALUE));
+        check.is("behind most", x.has(9), Draws.next(Integer.MAX_VALUE));
         check.is("no act", x.has(8), 2);
         check.is("status(5)", x.status(5), 2);
     }

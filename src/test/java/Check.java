@@ -2,19 +2,50 @@
 final class Check {
     private int wrong = 0;
     private int asked = 0;
+    private String test = "";
+
+    /** What is wrong from now on is told by this test's name. */
+    void begin(String name) {
+        test = name + ": ";
+    }
 
     void is(String what, long got, long due) {
         asked++;
         if (got != due) {
-            wrong++;
-            if (wrong <= 50) {
-                System.out.println(what + " answered " + got + ", due is " + due);
-            }
+            tellWrong(what + " answered " + got + ", due is " + due);
+        }
+    }
+
+    void threw(Throwable thrown) {
+        tellWrong("threw " + thrown);
+    }
+
+    private void tellWrong(String what) {
+        wrong++;
+        if (wrong <= 50) {
+            System.out.println(test + what);
         }
     }
 
     void is(String what, boolean got, boolean due) {
         is(what, got ? 1 : 0, due ? 1 : 0);
+    }
+
+    /** A text that is a line with so many statements. */
+    void sound(String text, int statements) {
+        BornAboard x = new BornAboard();
+        is("line() of " + text, tell(x, text), statements);
+        is("fault(0) of " + text, x.fault(0), 0);
+        is("fault(1) of " + text, x.fault(1), BornAboard.NONE);
+        is("status(1) of " + text, x.status(1), 0);
+    }
+
+    void fault(String text, int kind, int place) {
+        BornAboard x = new BornAboard();
+        is("line() of " + text, tell(x, text), BornAboard.NONE);
+        is("fault(0) of " + text, x.fault(0), kind);
+        is("fault(1) of " + text, x.fault(1), place);
+        is("status(1) of " + text, x.status(1), 1);
     }
 
     boolean failed() {
@@ -49,6 +80,38 @@ final class Check {
 
     static void put(BornAboard x, String text) {
         put(x, text.chars().toArray());
+    }
+
+    /** Bytes with the last one that makes them an image. */
+    static int[] sealed(int... bytes) {
+        int[] all = java.util.Arrays.copyOf(bytes, bytes.length + 1);
+        int c = 67;
+        for (int b : bytes) {
+            c = (5 * c + b) % 249;
+        }
+        all[bytes.length] = c;
+        return all;
+    }
+
+    /** An image of now without its last byte. */
+    static int[] image(BornAboard x) {
+        int[] bytes = new int[Math.max(0, x.image() - 1)];
+        for (int k = 0; k < bytes.length; k++) {
+            bytes[k] = x.octet(k);
+        }
+        return bytes;
+    }
+
+    /** All as now, but in another YEAR; no act can be undone then. */
+    static void toYear(BornAboard x, int year) {
+        int[] bytes = image(x);
+        bytes[0] = year / 256;
+        bytes[1] = year % 256;
+        x.end(0);
+        put(x, sealed(bytes));
+        if (!x.on()) {
+            throw new IllegalStateException("no image of YEAR " + year);
+        }
     }
 
     static int tell(BornAboard x, String text) {

@@ -51,16 +51,16 @@ public final class FaultTest {
     }
 
     private void soundTexts() {
-        sound("", 0);
-        sound(" \n ", 0);
-        sound("station a;", 1);
-        sound("\nstation\n\na \n;stop 30 ; stop 1;", 3);
-        sound("stop 0007;", 1);
-        sound(AB + "train t from 0 seats 1 calls a after 1 b;", 3);
-        sound(AB + "train t from 1439 seats 12 calls a after 99 b;", 3);
-        sound(AB + "person p age 0 born a at b to b price 0;", 3);
-        sound(AB + "person p age 99 born a b at b to b price 99;", 3);
-        sound("station abcdef;station stops;station fro;station tot;", 4);
+        check.sound("", 0);
+        check.sound(" \n ", 0);
+        check.sound("station a;", 1);
+        check.sound("\nstation\n\na \n;stop 30 ; stop 1;", 3);
+        check.sound("stop 0007;", 1);
+        check.sound(AB + "train t from 0 seats 1 calls a after 1 b;", 3);
+        check.sound(AB + "train t from 1439 seats 12 calls a after 99 b;", 3);
+        check.sound(AB + "person p age 0 born a at b to b price 0;", 3);
+        check.sound(AB + "person p age 99 born a b at b to b price 99;", 3);
+        check.sound("station abcdef;station stops;station fro;station tot;", 4);
         BornAboard x = Check.of("station a;stop 9;stop 3;");
         check.is("the last stop counts", x.has(5), 3);
         Check.tell(x, "station a;");
@@ -70,145 +70,145 @@ public final class FaultTest {
     }
 
     private void texts() {
-        fault(";", 1, 0);
-        fault("foo", 1, 0);
-        fault("sta", 1, 0);
-        fault(" sta", 1, 1);
-        fault("12", 1, 0);
-        fault("station", 1, 7);
-        fault("station ", 1, 8);
-        fault("station a", 1, 9);
-        fault("station a \n", 1, 11);
-        fault("station a;;", 1, 10);
-        fault("station a b;", 1, 10);
-        fault("station a 1;", 1, 10);
-        fault("station a,", 1, 9);
-        fault("Station a;", 1, 0);
-        fault("station A;", 1, 8);
-        fault("station a;\u0000", 1, 10);
-        fault("station a;\t", 1, 10);
-        fault("from", 1, 0);
-        fault("station 5;", 1, 8);
-        fault("stop a;", 1, 5);
-        fault("stop;", 1, 4);
-        fault("stop 5 5;", 1, 7);
-        fault("stop -1;", 1, 5);
+        check.fault(";", 1, 0);
+        check.fault("foo", 1, 0);
+        check.fault("sta", 1, 0);
+        check.fault(" sta", 1, 1);
+        check.fault("12", 1, 0);
+        check.fault("station", 1, 7);
+        check.fault("station ", 1, 8);
+        check.fault("station a", 1, 9);
+        check.fault("station a \n", 1, 11);
+        check.fault("station a;;", 1, 10);
+        check.fault("station a b;", 1, 10);
+        check.fault("station a 1;", 1, 10);
+        check.fault("station a,", 1, 9);
+        check.fault("Station a;", 1, 0);
+        check.fault("station A;", 1, 8);
+        check.fault("station a;\u0000", 1, 10);
+        check.fault("station a;\t", 1, 10);
+        check.fault("from", 1, 0);
+        check.fault("station 5;", 1, 8);
+        check.fault("stop a;", 1, 5);
+        check.fault("stop;", 1, 4);
+        check.fault("stop 5 5;", 1, 7);
+        check.fault("stop -1;", 1, 5);
     }
 
     private void names() {
-        fault("station abcdefg;", 1, 14);
-        fault("abcdefgh", 1, 6);
-        fault("stationx a;", 1, 6);
-        fault("stop abcdefghi;", 1, 11);
-        fault("station a;abcdefg", 1, 16);
-        fault("station station;", 1, 8);
-        fault("station to;", 1, 8);
-        fault("train price from 5", 1, 6);
-        fault("person at", 1, 7);
-        fault("station a;station a;", 2, 18);
-        fault(AB + "train b from", 2, 26);
-        fault(AB + "person a age", 2, 27);
-        fault(AB + "train t from 1 seats 1 calls a after 1 b;station t;", 2, 69);
-        fault(AB + "train t from 1 seats 1 calls a after 1 b;person t", 2, 68);
-        fault(AB + "person p age 1 born a at a to a price 1;train p", 2, 66);
-        fault(AB + "train t from 1 seats 1 calls c", 3, 49);
-        fault(AB + "train t from 1 seats 1 calls t", 3, 49);
-        fault(AB + "train t from 1 seats 1 calls from", 1, 49);
-        fault(AB + "train t from 1 seats 1 calls 3", 1, 49);
-        fault(AB + "person p age 1 born p", 3, 40);
-        fault(AB + "person p age 1 born x", 3, 40);
-        fault(AB + "person p age 1 born at a", 1, 40);
-        fault(AB + "person p age 1 born a at x", 3, 45);
-        fault(AB + "person p age 1 born a at to", 1, 45);
-        fault(AB + "person p age 1 born a at a to x", 3, 50);
-        fault("person p age 1 born a at a to a price 1;station a;", 3, 20);
+        check.fault("station abcdefg;", 1, 14);
+        check.fault("abcdefgh", 1, 6);
+        check.fault("stationx a;", 1, 6);
+        check.fault("stop abcdefghi;", 1, 11);
+        check.fault("station a;abcdefg", 1, 16);
+        check.fault("station station;", 1, 8);
+        check.fault("station to;", 1, 8);
+        check.fault("train price from 5", 1, 6);
+        check.fault("person at", 1, 7);
+        check.fault("station a;station a;", 2, 18);
+        check.fault(AB + "train b from", 2, 26);
+        check.fault(AB + "person a age", 2, 27);
+        check.fault(AB + "train t from 1 seats 1 calls a after 1 b;station t;", 2, 69);
+        check.fault(AB + "train t from 1 seats 1 calls a after 1 b;person t", 2, 68);
+        check.fault(AB + "person p age 1 born a at a to a price 1;train p", 2, 66);
+        check.fault(AB + "train t from 1 seats 1 calls c", 3, 49);
+        check.fault(AB + "train t from 1 seats 1 calls t", 3, 49);
+        check.fault(AB + "train t from 1 seats 1 calls from", 1, 49);
+        check.fault(AB + "train t from 1 seats 1 calls 3", 1, 49);
+        check.fault(AB + "person p age 1 born p", 3, 40);
+        check.fault(AB + "person p age 1 born x", 3, 40);
+        check.fault(AB + "person p age 1 born at a", 1, 40);
+        check.fault(AB + "person p age 1 born a at x", 3, 45);
+        check.fault(AB + "person p age 1 born a at to", 1, 45);
+        check.fault(AB + "person p age 1 born a at a to x", 3, 50);
+        check.fault("person p age 1 born a at a to a price 1;station a;", 3, 20);
     }
 
     private void numbers() {
-        fault("stop 0;", 4, 5);
-        fault("stop 31;", 4, 5);
-        fault("stop 31", 4, 5);
-        fault("stop 31x", 4, 5);
-        fault("stop 9999;", 4, 5);
-        fault("stop 12345;", 1, 9);
-        fault("stop 00001;", 1, 9);
-        fault("station 12345;", 1, 12);
-        fault("12345", 1, 4);
-        fault("train t from 1440 ", 4, 13);
-        fault("train t from 1439 seats 0", 4, 24);
-        fault("train t from 1439 seats 13", 4, 24);
-        fault(AB + "train t from 1 seats 1 calls a after 0 b;", 4, 57);
-        fault(AB + "train t from 1 seats 1 calls a after 100 b;", 4, 57);
-        fault("person p age 100", 4, 13);
-        fault(AB + "person p age 1 born a at a to a price 100", 4, 58);
+        check.fault("stop 0;", 4, 5);
+        check.fault("stop 31;", 4, 5);
+        check.fault("stop 31", 4, 5);
+        check.fault("stop 31x", 4, 5);
+        check.fault("stop 9999;", 4, 5);
+        check.fault("stop 12345;", 1, 9);
+        check.fault("stop 00001;", 1, 9);
+        check.fault("station 12345;", 1, 12);
+        check.fault("12345", 1, 4);
+        check.fault("train t from 1440 ", 4, 13);
+        check.fault("train t from 1439 seats 0", 4, 24);
+        check.fault("train t from 1439 seats 13", 4, 24);
+        check.fault(AB + "train t from 1 seats 1 calls a after 0 b;", 4, 57);
+        check.fault(AB + "train t from 1 seats 1 calls a after 100 b;", 4, 57);
+        check.fault("person p age 100", 4, 13);
+        check.fault(AB + "person p age 1 born a at a to a price 100", 4, 58);
     }
 
     private void blanks() {
-        fault("stop5;", 1, 4);
-        fault("stop 5stop 6;", 1, 6);
-        fault("station a1;", 1, 9);
-        fault("train t from5 seats", 1, 12);
-        fault("train t from 5seats", 1, 14);
-        fault(AB + "person p age 1born a", 1, 34);
+        check.fault("stop5;", 1, 4);
+        check.fault("stop 5stop 6;", 1, 6);
+        check.fault("station a1;", 1, 9);
+        check.fault("train t from5 seats", 1, 12);
+        check.fault("train t from 5seats", 1, 14);
+        check.fault(AB + "person p age 1born a", 1, 34);
         // The blank that lacks is ahead of the letter or digit that is too many.
-        fault("stop 5abcdefg", 1, 6);
-        fault("stop 5stationx", 1, 6);
-        fault("stop 5station a;", 1, 6);
-        fault("stop12345;", 1, 4);
-        fault("station a12345;", 1, 9);
-        fault("station12345", 1, 7);
-        fault("stop 1234abcdefg", 4, 5);
-        fault("stop 31abcdefg", 4, 5);
-        fault("stop 12345abcdefg", 1, 9);
-        fault("station abcdefg12345", 1, 14);
-        fault("train t from 5abcdefgh", 1, 14);
-        fault(AB + "train t from 1 seats 1 calls a after 5stationx", 1, 58);
-        fault(AB + "person p age 1 born a12345", 1, 41);
-        fault("stop 5 abcdefg", 1, 13);
-        fault("stop 5;abcdefg", 1, 13);
-        fault("stop 5;12345", 1, 11);
-        fault("stop 5" + (char) 233, 1, 6);
+        check.fault("stop 5abcdefg", 1, 6);
+        check.fault("stop 5stationx", 1, 6);
+        check.fault("stop 5station a;", 1, 6);
+        check.fault("stop12345;", 1, 4);
+        check.fault("station a12345;", 1, 9);
+        check.fault("station12345", 1, 7);
+        check.fault("stop 1234abcdefg", 4, 5);
+        check.fault("stop 31abcdefg", 4, 5);
+        check.fault("stop 12345abcdefg", 1, 9);
+        check.fault("station abcdefg12345", 1, 14);
+        check.fault("train t from 5abcdefgh", 1, 14);
+        check.fault(AB + "train t from 1 seats 1 calls a after 5stationx", 1, 58);
+        check.fault(AB + "person p age 1 born a12345", 1, 41);
+        check.fault("stop 5 abcdefg", 1, 13);
+        check.fault("stop 5;abcdefg", 1, 13);
+        check.fault("stop 5;12345", 1, 11);
+        check.fault("stop 5" + (char) 233, 1, 6);
     }
 
     private void births() {
         String head = AB + "person p age 1 born ";
-        fault(head + "a a", 3, 42);
-        fault(head + "a x", 3, 42);
-        fault(head + "a b a", 1, 44);
-        fault(head + "a b x", 1, 44);
-        fault(head + "a b abcdefg", 1, 50);
-        fault(head + "a to a", 1, 42);
-        fault(head + "a born", 1, 42);
-        fault(head + "a 5", 1, 42);
-        fault(head + "a b to a", 1, 44);
-        fault(head + "a;", 1, 41);
-        fault(head + "a", 1, 41);
-        fault(head + "a at a price", 1, 47);
-        fault(head + "a at a to a;", 1, 51);
-        fault(head + "a at a to a price 1", 1, 59);
-        fault(head + "a at a to a price ;", 1, 58);
+        check.fault(head + "a a", 3, 42);
+        check.fault(head + "a x", 3, 42);
+        check.fault(head + "a b a", 1, 44);
+        check.fault(head + "a b x", 1, 44);
+        check.fault(head + "a b abcdefg", 1, 50);
+        check.fault(head + "a to a", 1, 42);
+        check.fault(head + "a born", 1, 42);
+        check.fault(head + "a 5", 1, 42);
+        check.fault(head + "a b to a", 1, 44);
+        check.fault(head + "a;", 1, 41);
+        check.fault(head + "a", 1, 41);
+        check.fault(head + "a at a price", 1, 47);
+        check.fault(head + "a at a to a;", 1, 51);
+        check.fault(head + "a at a to a price 1", 1, 59);
+        check.fault(head + "a at a to a price ;", 1, 58);
     }
 
     private void trains() {
         String head = EIGHT + "train t from 5 seats 5 calls a";
         int at = head.length();
-        fault(head + ";", 1, at);
-        fault(head + " b;", 1, at + 1);
-        fault(head + " after b;", 1, at + 7);
-        fault(head + " after 5;", 1, at + 8);
-        fault(head + " after 5 a;", 3, at + 9);
-        fault(head + " after 5 b after 5 b;", 3, at + 19);
-        fault(head + " after 5 b after 5 c after 5 a;", 3, at + 29);
-        fault(head + " after 5 b after 5 c after 5 b;", 3, at + 29);
-        fault(head + " after 5 b c", 1, at + 11);
-        fault(head + " after 5 b after", 1, at + 16);
+        check.fault(head + ";", 1, at);
+        check.fault(head + " b;", 1, at + 1);
+        check.fault(head + " after b;", 1, at + 7);
+        check.fault(head + " after 5;", 1, at + 8);
+        check.fault(head + " after 5 a;", 3, at + 9);
+        check.fault(head + " after 5 b after 5 b;", 3, at + 19);
+        check.fault(head + " after 5 b after 5 c after 5 a;", 3, at + 29);
+        check.fault(head + " after 5 b after 5 c after 5 b;", 3, at + 29);
+        check.fault(head + " after 5 b c", 1, at + 11);
+        check.fault(head + " after 5 b after", 1, at + 16);
         String full = head + " after 1 b after 2 c after 3 d after 4 e after 5 f after 6 g after 7 h";
-        sound(full + ";", 10);
-        fault(full + " after 8 i;", 1, full.length() + 1);
-        fault(full + " after 100 i;", 1, full.length() + 1);
-        fault("train t calls", 1, 8);
-        fault("train t from 5 calls", 1, 15);
-        fault("train t from 5 seats 5 from", 1, 23);
+        check.sound(full + ";", 10);
+        check.fault(full + " after 8 i;", 1, full.length() + 1);
+        check.fault(full + " after 100 i;", 1, full.length() + 1);
+        check.fault("train t calls", 1, 8);
+        check.fault("train t from 5 calls", 1, 15);
+        check.fault("train t from 5 seats 5 from", 1, 23);
     }
 
     private void limits() {
@@ -216,73 +216,73 @@ public final class FaultTest {
         for (int k = 0; k < 14; k++) {
             stations.append("station s").append((char) ('a' + k)).append(';');
         }
-        sound(stations.toString(), 14);
-        fault(stations + "station x;", 5, stations.length());
-        fault(stations + " station ", 5, stations.length() + 1);
+        check.sound(stations.toString(), 14);
+        check.fault(stations + "station x;", 5, stations.length());
+        check.fault(stations + " station ", 5, stations.length() + 1);
         StringBuilder trains = new StringBuilder(AB);
         for (int k = 0; k < 6; k++) {
             trains.append("train t").append((char) ('a' + k)).append(" from 1 seats 1 calls a after 1 b;");
         }
-        sound(trains.toString(), 8);
-        fault(trains + "train ta", 5, trains.length());
+        check.sound(trains.toString(), 8);
+        check.fault(trains + "train ta", 5, trains.length());
         StringBuilder people = new StringBuilder(AB);
         for (int k = 0; k < 10; k++) {
             people.append("person p").append((char) ('a' + k)).append(" age 1 born a at a to a price 1;");
         }
-        sound(people.toString(), 12);
-        fault(people + "person pa", 5, people.length());
+        check.sound(people.toString(), 12);
+        check.fault(people + "person pa", 5, people.length());
         String stops = "stop 5;".repeat(90);
-        sound(stops, 90);
-        fault(stops + "stop 5;", 5, 630);
-        fault(stops + " stop", 5, 631);
-        fault(stops + "station a;", 5, 630);
+        check.sound(stops, 90);
+        check.fault(stops + "stop 5;", 5, 630);
+        check.fault(stops + " stop", 5, 631);
+        check.fault(stops + "station a;", 5, 630);
         behindNinety(stops);
         // Tapes that are full.
-        fault(";".repeat(1600), 1, 0);
-        fault("a ".repeat(800), 1, 0);
-        fault("a".repeat(1600), 1, 6);
-        fault("1".repeat(1600), 1, 4);
-        fault(stops + " ".repeat(969) + "a", 5, 1599);
-        fault(stops + " ".repeat(962) + "station ", 5, 1592);
-        sound(stops + " ".repeat(970), 90);
-        fault("stop 5;".repeat(10) + " ".repeat(1526) + "stop", 1, 1600);
-        fault("stop 5;".repeat(10) + " ".repeat(1525) + "stop1", 1, 1599);
-        sound("stop 5;".repeat(10) + " ".repeat(1523) + "stop 1;", 11);
+        check.fault(";".repeat(1600), 1, 0);
+        check.fault("a ".repeat(800), 1, 0);
+        check.fault("a".repeat(1600), 1, 6);
+        check.fault("1".repeat(1600), 1, 4);
+        check.fault(stops + " ".repeat(969) + "a", 5, 1599);
+        check.fault(stops + " ".repeat(962) + "station ", 5, 1592);
+        check.sound(stops + " ".repeat(970), 90);
+        check.fault("stop 5;".repeat(10) + " ".repeat(1526) + "stop", 1, 1600);
+        check.fault("stop 5;".repeat(10) + " ".repeat(1525) + "stop1", 1, 1599);
+        check.sound("stop 5;".repeat(10) + " ".repeat(1523) + "stop 1;", 11);
     }
 
     /** Whatever begins there is the 91st statement, told at its first byte. */
     private void behindNinety(String stops) {
         for (String more : new String[] {"x", "abcdefg", "abcdefgh;", "stationx", "from", "12", "12345", ";", "!", "\u0000",
             "" + (char) 255, "station station;", "stop 99;", "x".repeat(900)}) {
-            fault(stops + more, 5, 630);
-            fault(stops + " \n" + more, 5, 632);
+            check.fault(stops + more, 5, 630);
+            check.fault(stops + " \n" + more, 5, 632);
         }
-        sound(stops + " \n\n ", 90);
+        check.sound(stops + " \n\n ", 90);
         // The 90th one is read as any other.
         String some = "stop 5;".repeat(89);
-        fault(some + "x", 1, 623);
-        fault(some + "abcdefg", 1, 629);
-        fault(some + "12345", 1, 627);
-        fault(some + ";", 1, 623);
-        fault(some + "stop 5", 1, 629);
-        fault(some + "stop 5abcdefg", 1, 629);
-        fault(some + "stop 5 abcdefg", 1, 636);
-        fault(some + "stop 31;abcdefg", 4, 628);
-        sound(some + "station a ;", 90);
+        check.fault(some + "x", 1, 623);
+        check.fault(some + "abcdefg", 1, 629);
+        check.fault(some + "12345", 1, 627);
+        check.fault(some + ";", 1, 623);
+        check.fault(some + "stop 5", 1, 629);
+        check.fault(some + "stop 5abcdefg", 1, 629);
+        check.fault(some + "stop 5 abcdefg", 1, 636);
+        check.fault(some + "stop 31;abcdefg", 4, 628);
+        check.sound(some + "station a ;", 90);
     }
 
     private void faultKept() {
         BornAboard x = new BornAboard();
-        check.is("fault(0) ahead of any line()", x.fault(0), 0);
-        check.is("fault(1) ahead of any line()", x.fault(1), -1);
+        check.is("check.fault(0) ahead of any line()", x.fault(0), 0);
+        check.is("check.fault(1) ahead of any line()", x.fault(1), -1);
         Check.tell(x, AB + "stop 9;person p age 1 born a at a to b price 5;");
         x.hire(0, true);
         x.seed(77);
         check.is("line() with a fault", Check.tell(x, "station c;stop 99;"), -1);
-        check.is("fault(0)", x.fault(0), 4);
-        check.is("fault(1)", x.fault(1), 15);
-        check.is("fault(2)", x.fault(2), -1);
-        check.is("fault(-1)", x.fault(-1), -1);
+        check.is("check.fault(0)", x.fault(0), 4);
+        check.is("check.fault(1)", x.fault(1), 15);
+        check.is("check.fault(2)", x.fault(2), -1);
+        check.is("check.fault(-1)", x.fault(-1), -1);
         check.is("stations stay", x.has(0), 2);
         check.is("the hired one stays", x.has(3), 1);
         check.is("the act stays", x.has(8), 1);
@@ -296,24 +296,8 @@ public final class FaultTest {
         check.is("no act can be undone", x.has(8), 0);
         check.is("undo()", x.undo(), false);
         check.is("YEAR", x.has(6), 0);
-        check.is("fault(0) then", x.fault(0), 0);
-        check.is("fault(1) then", x.fault(1), -1);
+        check.is("check.fault(0) then", x.fault(0), 0);
+        check.is("check.fault(1) then", x.fault(1), -1);
         check.is("status(1)", x.status(1), 1);
-    }
-
-    private void sound(String text, int statements) {
-        BornAboard x = new BornAboard();
-        check.is("line() of " + text, Check.tell(x, text), statements);
-        check.is("fault(0) of " + text, x.fault(0), 0);
-        check.is("fault(1) of " + text, x.fault(1), -1);
-        check.is("status(1) of " + text, x.status(1), 0);
-    }
-
-    private void fault(String text, int kind, int place) {
-        BornAboard x = new BornAboard();
-        check.is("line() of " + text, Check.tell(x, text), -1);
-        check.is("fault(0) of " + text, x.fault(0), kind);
-        check.is("fault(1) of " + text, x.fault(1), place);
-        check.is("status(1) of " + text, x.status(1), 1);
     }
 }

@@ -11,16 +11,6 @@ public final class ImageTest {
         test.check.finish();
     }
 
-    private static int[] sealed(int... bytes) {
-        int[] all = java.util.Arrays.copyOf(bytes, bytes.length + 1);
-        int c = 67;
-        for (int b : bytes) {
-            c = (5 * c + b) % 249;
-        }
-        all[bytes.length] = c;
-        return all;
-    }
-
     /** YEAR 300 of the people of TWO_TRAINS, r hired. */
     private static int[] plain() {
         return new int[] {1, 44, 30, 2, 0, 0, 2, 0, 40, 3, 0, 0, 3, 0, 50, 1, 2, 0, 1, 1, 60, 4, 0, 3, 1, 0};
@@ -33,7 +23,7 @@ public final class ImageTest {
         int[] due = plain();
         due[0] = 0;
         due[1] = 0;
-        due = sealed(due);
+        due = Check.sealed(due);
         for (int k = 0; k < 27; k++) {
             check.is("octet(" + k + ")", x.octet(k), due[k]);
         }
@@ -52,7 +42,7 @@ public final class ImageTest {
         BornAboard x = Check.of(Lines.TWO_TRAINS);
         x.wish(0, 4);
         x.hire(3, true);
-        Check.put(x, sealed(plain()));
+        Check.put(x, Check.sealed(plain()));
         check.is("on()", x.on(), true);
         check.is("the tape went", x.end(1), false);
         check.is("YEAR", x.has(6), 300);
@@ -65,7 +55,7 @@ public final class ImageTest {
         check.is("at", x.person(3, 3), 3);
         check.is("age", x.person(3, 0), 60);
         x.image();
-        int[] due = sealed(plain());
+        int[] due = Check.sealed(plain());
         for (int k = 0; k < due.length; k++) {
             check.is("octet(" + k + ") of it", x.octet(k), due[k]);
         }
@@ -77,14 +67,14 @@ public final class ImageTest {
         edge[4] = 1;
         edge[5] = 4;
         edge[6] = 4;
-        Check.put(x, sealed(edge));
+        Check.put(x, Check.sealed(edge));
         check.is("on() at the edges", x.on(), true);
         check.is("YEAR 9999", x.has(6), 9999);
         check.is("age 99", x.person(0, 0), 99);
         check.is("born at the last, second the first", x.person(0, 1) * 10 + x.person(0, 2), 40);
         edge[3] = 1;
         edge[4] = 5;
-        Check.put(x, sealed(edge));
+        Check.put(x, Check.sealed(edge));
         check.is("on() the other way round", x.on(), true);
         check.is("born at the first, second the last", x.person(0, 1) * 10 + x.person(0, 2), 4);
     }
@@ -97,17 +87,17 @@ public final class ImageTest {
             for (int k = 0; k < change.length; k += 2) {
                 bytes[change[k]] = change[k + 1];
             }
-            refuse("byte " + change[0] + " is " + change[1], sealed(bytes));
+            refuse("byte " + change[0] + " is " + change[1], Check.sealed(bytes));
         }
-        refuse("one too few", java.util.Arrays.copyOf(sealed(plain()), 26));
-        refuse("one too many", java.util.Arrays.copyOf(sealed(plain()), 28));
-        refuse("fewer people", sealed(java.util.Arrays.copyOf(plain(), 20)));
-        refuse("more people", sealed(java.util.Arrays.copyOf(plain(), 32)));
+        refuse("one too few", java.util.Arrays.copyOf(Check.sealed(plain()), 26));
+        refuse("one too many", java.util.Arrays.copyOf(Check.sealed(plain()), 28));
+        refuse("fewer people", Check.sealed(java.util.Arrays.copyOf(plain(), 20)));
+        refuse("more people", Check.sealed(java.util.Arrays.copyOf(plain(), 32)));
         refuse("nothing");
-        int[] other = sealed(plain());
+        int[] other = Check.sealed(plain());
         other[26] = (other[26] + 1) % 249;
         refuse("another last byte", other);
-        other[26] = sealed(plain())[26] + 249;
+        other[26] = Check.sealed(plain())[26] + 249;
         if (other[26] < 256) {
             refuse("a last byte beyond 248", other);
         }

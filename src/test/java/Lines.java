@@ -27,6 +27,41 @@ final class Lines {
         + "person p age 0 born c at a to b price 0;"
         + "person q age 0 born b at a to c price 0;";
 
+    /** Four stations, two trains, three people, r and q with a price: what calls are refused on. */
+    static final String SMALL = stations(4) + "stop 5;"
+        + train("t", 10, 2, "a after 10 b after 10 c") + train("us", 60, 1, "c after 7 d")
+        + person("p", 30, "b", "a", "c", 0) + person("q", 40, "c d", "a", "d", 7) + person("r", 50, "a", "c", "d", 3);
+
     private Lines() {
+    }
+
+    /** So many stations, named a, b, c and on. */
+    static String stations(int n) {
+        StringBuilder text = new StringBuilder();
+        for (int s = 0; s < n; s++) {
+            text.append("station ").append(place(s)).append(';');
+        }
+        return text.toString();
+    }
+
+    static char place(int s) {
+        return (char) ('a' + s);
+    }
+
+    static String train(String name, int from, int seats, String calls) {
+        return "train " + name + " from " + from + " seats " + seats + " calls " + calls + ";";
+    }
+
+    static String person(String name, int age, String born, String at, String to, int price) {
+        return "person " + name + " age " + age + " born " + born + " at " + at + " to " + to + " price " + price + ";";
+    }
+
+    /** So many people who are alike but for their names, pa, pb and on. */
+    static String people(int n, int age, String born, String at, String to, int price) {
+        StringBuilder text = new StringBuilder();
+        for (int p = 0; p < n; p++) {
+            text.append(person("p" + place(p), age, born, at, to, price));
+        }
+        return text.toString();
     }
 }

@@ -103,10 +103,10 @@ public final class WorthTest {
     private void runs() {
         String text = "station a;station b;station c;person p age 99 born a at b to b price 0;";
         BornAboard x = Check.of(text);
-        x.seed(ActsTest.seedFor(98));
+        x.seed(Draws.seedFor(98));
         int seed = x.has(9);
         check.is("a dies", x.runs(1, 1, 0, 0), 1);
-        check.is("drawn on", x.has(9), ActsTest.next(seed));
+        check.is("drawn on", x.has(9), Draws.next(seed));
         check.is("age stays", x.person(0, 0), 99);
         check.is("YEAR stays", x.has(6), 0);
         check.is("no act", x.has(8), 0);
@@ -116,7 +116,7 @@ public final class WorthTest {
         check.is("one died", x.runs(1, 1, 2, 1), 1);
         x.seed(seed);
         check.is("each run starts as it was", x.runs(20, 1, 2, 1) >= 18, true);
-        x.seed(ActsTest.seedFor(99));
+        x.seed(Draws.seedFor(99));
         check.is("nobody dies", x.runs(1, 1, 0, 0), 0);
         seed = x.has(9);
         int[][] cannot = {{0, 1, 0, 0}, {21, 1, 0, 0}, {1, 0, 0, 0}, {1, 21, 0, 0}, {1, 1, 3, 0}, {1, 1, -1, 1},
@@ -130,17 +130,10 @@ public final class WorthTest {
 
     private void lateRuns(String text) {
         BornAboard x = Check.of(text);
-        int[] bytes = {9998 / 256, 9998 % 256, 99, 1, 0, 1, 1, 0, 0};
-        int c = 67;
-        for (int k = 0; k < 8; k++) {
-            c = (5 * c + bytes[k]) % 249;
-        }
-        bytes[8] = c;
-        Check.put(x, bytes);
-        check.is("on()", x.on(), true);
+        Check.toYear(x, 9998);
         x.runs(3, 20, 0, 0);
-        check.is("three years in all", x.has(9), ActsTest.next(ActsTest.next(ActsTest.next(1))));
-        x.seed(ActsTest.seedFor(99));
+        check.is("three years in all", x.has(9), Draws.after(1, 3));
+        x.seed(Draws.seedFor(99));
         x.years(1);
         int seed = x.has(9);
         check.is("no year is left", x.runs(20, 20, 0, 1), 0);
