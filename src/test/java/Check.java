@@ -48,6 +48,10 @@ final class Check {
         is("status(1) of " + text, x.status(1), 1);
     }
 
+    int asked() {
+        return asked;
+    }
+
     boolean failed() {
         return wrong != 0;
     }

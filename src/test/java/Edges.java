@@ -129,7 +129,8 @@ abstract class Edges {
     }
 
     /** A call is denied for each number that is not 0 .. most; it changes nothing for the nearest ones. */
-    final void deniedOutside(String what, int most, Calls start, java.util.function.BiPredicate<BornAboard, Integer> call, int kind) {
+    final void deniedOutside(String what, int most, Calls start, java.util.function.BiPredicate<BornAboard, Integer> call,
+        int kind) {
         denies(what + " of -1", start, x -> call.test(x, -1), kind);
         denies(what + " of " + (most + 1), start, x -> call.test(x, most + 1), kind);
         for (int n : FAR) {

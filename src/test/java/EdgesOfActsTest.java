@@ -14,7 +14,8 @@ public final class EdgesOfActsTest extends Edges {
 
     @Says({"One is hired (is true), or not: true", "one is hired, or not (price above 0)", "0: not to be hired"})
     void p11_aPriceOf1And99ButNot0() {
-        BornAboard x = Check.of(Lines.stations(1) + Lines.person("p", 1, "a", "a", "a", 0) + Lines.person("q", 1, "a", "a", "a", 1)
+        BornAboard x = Check.of(Lines.stations(1) + Lines.person("p", 1, "a", "a", "a", 0)
+            + Lines.person("q", 1, "a", "a", "a", 1)
             + Lines.person("r", 1, "a", "a", "a", 99));
         check.is("price 0", x.hire(0, true), false);
         check.is("price 1", x.hire(1, true), true);
@@ -38,42 +39,52 @@ public final class EdgesOfActsTest extends Edges {
         deniedOutside("hire of ten", 9, told(TEN), (x, p) -> x.hire(p, true), CHANGE);
     }
 
-    // ---- promise 12
+    // ---- promises 12 and 13
 
-    @Says({"One wishes to be at a STATION: true", "another wish; a MOVE to another STATION; a DAY; a YEAR", "false, refused (2), when there are none such, or he does already."})
-    void p12_wish() {
-        BornAboard x = Check.of(TEN);
-        check.is("the last one, the first STATION", x.wish(9, 0), true);
-        check.is("it", x.person(9, 4), 0);
-        check.is("the last STATION again", x.wish(9, 13), true);
-        check.is("it", x.person(9, 4), 13);
-        check.is("the first one", x.wish(0, 12), true);
-        check.is("acts", x.has(8), 3);
-        denies("he does already", Edges::start, y -> y.wish(1, y.person(1, 4)), CHANGE);
-        denies("he does already, at first", told(TEN), y -> y.wish(9, 13), CHANGE);
-        deniedOutside("nobody wishes", 2, Edges::start, (y, p) -> y.wish(p, 1), CHANGE);
-        deniedOutside("wish nowhere", 3, Edges::start, (y, s) -> y.wish(0, s), CHANGE);
-        deniedOutside("nobody of ten wishes", 9, told(TEN), (y, p) -> y.wish(p, 1), CHANGE);
-        deniedOutside("wish nowhere of 14", 13, told(TEN), (y, s) -> y.wish(9, s), CHANGE);
+    interface Change {
+        boolean of(BornAboard x, int person, int station);
     }
 
-    // ---- promise 13
-
-    @Says({"One MOVES to a STATION: true", "another wish; a MOVE to another STATION; a DAY; a YEAR", "false, refused (2), when there are none such, or he is there already."})
-    void p13_move() {
+    /** A wish or a move, which changes what person() tells by this number. */
+    private void isChanged(Change change, int what) {
         BornAboard x = Check.of(TEN);
-        check.is("the last one, the last STATION", x.move(9, 13), true);
-        check.is("it", x.person(9, 3), 13);
-        check.is("the first STATION again", x.move(9, 0), true);
-        check.is("it", x.person(9, 3), 0);
-        check.is("the first one", x.move(0, 1), true);
+        int there = x.person(9, what);
+        check.is("the last one, the other end", change.of(x, 9, 13 - there), true);
+        check.is("it", x.person(9, what), 13 - there);
+        check.is("and back", change.of(x, 9, there), true);
+        check.is("it", x.person(9, what), there);
+        check.is("the first one", change.of(x, 0, 12), true);
         check.is("acts", x.has(8), 3);
-        denies("he is there already", Edges::start, y -> y.move(1, y.person(1, 3)), CHANGE);
-        denies("he is there already, at first", told(TEN), y -> y.move(9, 0), CHANGE);
-        deniedOutside("nobody moves", 2, Edges::start, (y, p) -> y.move(p, 1), CHANGE);
-        deniedOutside("move nowhere", 3, Edges::start, (y, s) -> y.move(0, s), CHANGE);
-        deniedOutside("nobody of ten moves", 9, told(TEN), (y, p) -> y.move(p, 1), CHANGE);
-        deniedOutside("move nowhere of 14", 13, told(TEN), (y, s) -> y.move(9, s), CHANGE);
+        check.is("refused", x.status(2), 0);
+    }
+
+    private void isNotChanged(Change change, int what) {
+        denies("already", Edges::start, x -> change.of(x, 1, x.person(1, what)), CHANGE);
+        denies("already, at first", told(TEN), x -> change.of(x, 9, x.person(9, what)), CHANGE);
+        deniedOutside("nobody", 2, Edges::start, (x, p) -> change.of(x, p, 1), CHANGE);
+        deniedOutside("nowhere", 3, Edges::start, (x, s) -> change.of(x, 0, s), CHANGE);
+        deniedOutside("nobody of ten", 9, told(TEN), (x, p) -> change.of(x, p, 1), CHANGE);
+        deniedOutside("nowhere of 14", 13, told(TEN), (x, s) -> change.of(x, 9, s), CHANGE);
+    }
+
+    @Says({"One wishes to be at a STATION: true", "another wish; a MOVE to another STATION; a DAY; a YEAR"})
+    void p12_wish() {
+        isChanged(BornAboard::wish, 4);
+    }
+
+    @Says("false, refused (2), when there are none such, or he does already.")
+    void p12_refused() {
+        isNotChanged(BornAboard::wish, 4);
+    }
+
+    @Says({"One MOVES to a STATION: true", "another wish; a MOVE to another STATION; a DAY; a YEAR"})
+    void p13_move() {
+        isChanged(BornAboard::move, 3);
+    }
+
+    @Says("false, refused (2), when there are none such, or he is there already.")
+    void p13_refused() {
+        isNotChanged(BornAboard::move, 3);
     }
 
     // ---- promise 14
@@ -84,7 +95,8 @@ public final class EdgesOfActsTest extends Edges {
         check.is("without a line", x.day(), 0);
         check.is("an ACT all the same", x.has(8), 1);
         check.is("no YEAR", x.has(6), 0);
-        BornAboard y = Check.of(Lines.stations(2) + Lines.train("t", 0, 12, "a after 1 b") + Lines.people(10, 1, "a", "a", "b", 1));
+        BornAboard y = Check.of(Lines.stations(2) + Lines.train("t", 0, 12, "a after 1 b")
+            + Lines.people(10, 1, "a", "a", "b", 1));
         y.hire(3, true);
         check.is("all ten, a hired one, too", y.day(), 10);
         check.is("all there", y.station(1, 1), 10);
@@ -100,7 +112,8 @@ public final class EdgesOfActsTest extends Edges {
 
     @Says("BEHIND A DAY people are where they got off last (else where they were).")
     void p14_whereTheyGotOffLast() {
-        BornAboard x = Check.of(Lines.stations(4) + Lines.train("t", 0, 9, "a after 1 b after 1 c") + Lines.train("us", 9, 9, "c after 1 b after 1 d")
+        BornAboard x = Check.of(Lines.stations(4) + Lines.train("t", 0, 9, "a after 1 b after 1 c")
+            + Lines.train("us", 9, 9, "c after 1 b after 1 d")
             + Lines.person("p", 1, "a", "a", "b", 0) + Lines.person("q", 1, "a", "d", "b", 0));
         check.is("carried past b twice", x.day(), 0);
         check.is("got off at d last", x.person(0, 3), 3);
@@ -179,7 +192,8 @@ public final class EdgesOfActsTest extends Edges {
 
     @Says("then one by one, by numbers, a DRAW of 100: is it below his age, he dies")
     void p15_aDrawBelowHisAge() {
-        int[][] rows = {{0, 0, 0, 1}, {1, 0, 1, 0}, {1, 1, 0, 2}, {50, 49, 1, 0}, {50, 50, 0, 51}, {50, 51, 0, 51}, {98, 97, 1, 0},
+        int[][] rows = {{0, 0, 0, 1}, {1, 0, 1, 0}, {1, 1, 0, 2}, {50, 49, 1, 0}, {50, 50, 0, 51}, {50, 51, 0, 51}, {98, 97,
+            1, 0},
             {98, 98, 0, 99}, {99, 98, 1, 0}, {99, 99, 0, 99}, {99, 0, 1, 0}, {0, 99, 0, 1}};
         for (int[] row : rows) {
             BornAboard x = aged(row[0], row[1]);
@@ -220,7 +234,8 @@ public final class EdgesOfActsTest extends Edges {
         check.is("the second one's child", y.person(1, 0), 0);
     }
 
-    @Says("he dies, and his child has his place: age 0, born where he is, its wish the STATION where he was born (between two: its wish stays his), as he is else")
+    @Says("he dies, and his child has his place: age 0, born where he is, its wish the STATION where he was born (between "
+        + "two: its wish stays his), as he is else")
     void p15_aChildHasHisPlace() {
         String line = Lines.stations(4) + Lines.train("t", 0, 9, "a after 1 b");
         BornAboard x = Check.of(line + Lines.person("p", 99, "d", "a", "b", 5));
@@ -244,8 +259,10 @@ public final class EdgesOfActsTest extends Edges {
 
     @Says("a YEAR: a DAY; then each who is where he wishes to be wishes to be where he was ahead of it")
     void p15_whoIsThereWishesBack() {
-        BornAboard x = Check.of(Lines.stations(3) + Lines.train("t", 0, 9, "a after 1 b") + Lines.person("p", 0, "c", "a", "b", 0)
-            + Lines.person("q", 0, "c", "a", "b", 1) + Lines.person("r", 0, "c", "b", "b", 0) + Lines.person("s", 0, "c", "a", "c", 0));
+        BornAboard x = Check.of(Lines.stations(3) + Lines.train("t", 0, 9, "a after 1 b")
+            + Lines.person("p", 0, "c", "a", "b", 0)
+            + Lines.person("q", 0, "c", "a", "b", 1) + Lines.person("r", 0, "c", "b", "b", 0)
+            + Lines.person("s", 0, "c", "a", "c", 0));
         x.hire(1, true);
         x.years(1);
         check.is("who got there", x.person(0, 4), 0);
@@ -327,7 +344,8 @@ public final class EdgesOfActsTest extends Edges {
     /** Each kind of act is undone whole, and nothing else with it. */
     @Says("The latest ACT is undone: all is as it was ahead of it (but the seed): true")
     void p16_eachKindOfAct() {
-        Calls[] acts = {x -> x.hire(1, false), x -> x.wish(0, 2), x -> x.move(1, 2), BornAboard::day, x -> x.hiring(4), x -> x.hiring(0)};
+        Calls[] acts = {x -> x.hire(1, false), x -> x.wish(0, 2), x -> x.move(1, 2), BornAboard::day, x -> x.hiring(4),
+            x -> x.hiring(0)};
         for (int k = 0; k < acts.length; k++) {
             Calls act = acts[k];
             changesNothing("act " + k + " and undo()", Edges::start, x -> {

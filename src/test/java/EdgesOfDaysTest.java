@@ -7,12 +7,31 @@ public final class EdgesOfDaysTest extends Edges {
     private static final String SLOW = Lines.stations(8) + Lines.train("ta", 17, 2, "b after 5 g after 5 c")
         + Lines.train("tb", 6, 3, "a after 5 d after 5 g after 5 b") + Lines.train("tc", 14, 1, "b after 5 g after 5 d")
         + Lines.train("td", 7, 1, "c after 5 e after 5 g after 5 a") + Lines.train("te", 23, 3, "d after 5 g")
-        + Lines.person("pa", 1, "b", "c", "g", 0) + Lines.person("pb", 1, "c", "c", "a", 0) + Lines.person("pc", 1, "d", "c", "g", 0)
-        + Lines.person("pd", 1, "c", "c", "g", 0) + Lines.person("pe", 1, "d", "c", "g", 0) + Lines.person("pf", 1, "d", "c", "g", 0)
+        + Lines.person("pa", 1, "b", "c", "g", 0) + Lines.person("pb", 1, "c", "c", "a", 0)
+        + Lines.person("pc", 1, "d", "c", "g", 0)
+        + Lines.person("pd", 1, "c", "c", "g", 0) + Lines.person("pe", 1, "d", "c", "g", 0)
+        + Lines.person("pf", 1, "d", "c", "g", 0)
         + Lines.person("pg", 1, "e", "c", "g", 0) + Lines.person("ph", 1, "d", "c", "g", 0);
 
     public static void main(String[] args) {
         new EdgesOfDaysTest().runAll();
+    }
+
+    interface AtCall {
+        int of(BornAboard x, int train, int k);
+    }
+
+    /** Asked of a train at its k-th station: none such on a small line and on one with as much as there can be. */
+    private void noneSuchCall(AtCall ask) {
+        BornAboard x = Check.of(Lines.SMALL);
+        noneOutside("STATION of 3", 2, k -> ask.of(x, 0, k));
+        noneOutside("STATION of 2", 1, k -> ask.of(x, 1, k));
+        noneOutside("TRAIN of 2", 1, t -> ask.of(x, t, 0));
+        BornAboard y = Check.of(FULL);
+        noneOutside("STATION of 8", 7, k -> ask.of(y, 5, k));
+        noneOutside("TRAIN of 6", 5, t -> ask.of(y, t, 0));
+        noneOutside("TRAIN of 6, at its last one", 5, t -> ask.of(y, t, 7));
+        check.is("the last STATION of the last TRAIN", ask.of(y, 5, 7) != NONE, true);
     }
 
     private void stopsAre(BornAboard x, int train, int k, int... due) {
@@ -25,20 +44,14 @@ public final class EdgesOfDaysTest extends Edges {
 
     // ---- promise 18
 
-    @Says({"Of a TRAIN at its k-th STATION: 0 whether it STOPS (1, 0), 1 the minute in which it comes, 2 how many get off, 3 how many get on, "
+    @Says({"Of a TRAIN at its k-th STATION: 0 whether it STOPS (1, 0), 1 the minute in which it comes, 2 how many get off, "
+        + "3 how many get on, "
         + "4 how many are aboard behind it, 5 whether it made a STOP BETWEEN ahead of it.",
         "NONE when there are none such, or for others."})
     void p18_noneSuch() {
-        BornAboard x = Check.of(Lines.SMALL);
-        BornAboard y = Check.of(FULL);
         for (int what = 0; what < 6; what++) {
             int of = what;
-            noneOutside("STATION of 3", 2, k -> x.stops(0, k, of));
-            noneOutside("STATION of 2", 1, k -> x.stops(1, k, of));
-            noneOutside("TRAIN of 2", 1, t -> x.stops(t, 0, of));
-            noneOutside("STATION of 8", 7, k -> y.stops(5, k, of));
-            noneOutside("TRAIN of 6", 5, t -> y.stops(t, 7, of));
-            check.is("the last STATION", y.stops(5, 7, what) != NONE, true);
+            noneSuchCall((x, t, k) -> x.stops(t, k, of));
         }
         noneOutside("what", 5, what -> Check.of(Lines.SMALL).stops(0, 0, what));
         noneOutside("what at the last one", 5, what -> Check.of(Lines.SMALL).stops(1, 1, what));
@@ -52,7 +65,8 @@ public final class EdgesOfDaysTest extends Edges {
 
     @Says("each TRAIN comes to its STATIONS one by one, to the first one in its minute (from).")
     void p18_minutesFrom0AndBeyond1439() {
-        BornAboard x = Check.of(Lines.stations(3) + Lines.train("t", 0, 1, "a after 1 b") + Lines.train("us", 1439, 1, "a after 99 b after 99 c"));
+        BornAboard x = Check.of(Lines.stations(3) + Lines.train("t", 0, 1, "a after 1 b")
+            + Lines.train("us", 1439, 1, "a after 99 b after 99 c"));
         check.is("in minute 0", x.stops(0, 0, 1), 0);
         check.is("a minute behind", x.stops(0, 1, 1), 1);
         check.is("in minute 1439", x.stops(1, 0, 1), 1439);
@@ -132,10 +146,13 @@ public final class EdgesOfDaysTest extends Edges {
         check.is("last of two", two.stops(0, 1, 0), 1);
     }
 
-    @Says("At a STOP first they get off: at its last STATION all; else each whose wish (to) that is, but nobody who is hired.")
+    @Says("At a STOP first they get off: at its last STATION all; else each whose wish (to) that is, but nobody who is "
+        + "hired.")
     void p18_whoGetsOff() {
-        BornAboard x = Check.of(Lines.stations(4) + Lines.train("t", 0, 12, "a after 1 b after 1 c after 1 d") + Lines.person("p", 1, "b", "a", "b", 0)
-            + Lines.person("o", 1, "a", "a", "b", 0) + Lines.person("q", 1, "a", "a", "d", 0) + Lines.person("h", 1, "a", "a", "b", 1)
+        BornAboard x = Check.of(Lines.stations(4) + Lines.train("t", 0, 12, "a after 1 b after 1 c after 1 d")
+            + Lines.person("p", 1, "b", "a", "b", 0)
+            + Lines.person("o", 1, "a", "a", "b", 0) + Lines.person("q", 1, "a", "a", "d", 0)
+            + Lines.person("h", 1, "a", "a", "b", 1)
             + Lines.person("r", 1, "a", "a", "c", 0));
         x.hire(3, true);
         stopsAre(x, 0, 0, 1, 0, 0, 5, 5, 0);
@@ -149,7 +166,8 @@ public final class EdgesOfDaysTest extends Edges {
     @Says("Then, but at its last one, those who are at that STATION get on, by numbers, as long as there are seats")
     void p18_seats() {
         for (int seats = 1; seats <= 12; seats++) {
-            BornAboard x = Check.of(Lines.stations(2) + Lines.train("t", 0, seats, "a after 1 b") + Lines.people(10, 1, "a", "a", "b", 0));
+            BornAboard x = Check.of(Lines.stations(2) + Lines.train("t", 0, seats, "a after 1 b")
+                + Lines.people(10, 1, "a", "a", "b", 0));
             int on = Math.min(seats, 10);
             stopsAre(x, 0, 0, 1, 0, 0, on, on, 0);
             stopsAre(x, 0, 1, 1, 1, on, 0, 0, 0);
@@ -182,7 +200,8 @@ public final class EdgesOfDaysTest extends Edges {
         for (int to = 0; to < 5; to++) {
             BornAboard x = Check.of(line + Lines.person("p", 1, "e", "a", "" + Lines.place(to), 0));
             check.is("at a to " + to, x.stops(0, 0, 3), first[to]);
-            BornAboard y = Check.of(line + Lines.person("g", 1, "c", "a", "d", 0) + Lines.person("p", 1, "e", "c", "" + Lines.place(to), 0));
+            BornAboard y = Check.of(line + Lines.person("g", 1, "c", "a", "d", 0) + Lines.person("p", 1, "e", "c", ""
+                + Lines.place(to), 0));
             check.is("at c to " + to, y.stops(0, 2, 3), third[to]);
             BornAboard z = Check.of(line + Lines.person("p", 1, "c", "c", "" + Lines.place(to), 0));
             check.is("where it goes through, to " + to, z.fares(0, 2), 0);
@@ -205,23 +224,28 @@ public final class EdgesOfDaysTest extends Edges {
         }
     }
 
-    @Says("It leaves at once from its first STATION and from one at which it does not STOP, so many minutes (stop) later from another one.")
+    @Says("It leaves at once from its first STATION and from one at which it does not STOP, so many minutes (stop) later "
+        + "from another one.")
     void p18_whenATrainLeaves() {
         for (int stop : new int[] {1, 2, 30}) {
-            BornAboard x = Check.of(Lines.stations(4) + "stop " + stop + ";" + Lines.train("t", 100, 9, "a after 5 b after 7 c after 9 d")
+            BornAboard x = Check.of(Lines.stations(4) + "stop " + stop + ";"
+                + Lines.train("t", 100, 9, "a after 5 b after 7 c after 9 d")
                 + Lines.person("g", 1, "c", "a", "d", 0) + Lines.person("o", 1, "a", "a", "d", 0));
             row("comes", k -> x.stops(0, k, 1), 100, 105, 112, 121 + stop);
             row("STOPS", k -> x.stops(0, k, 0), 1, 0, 1, 1);
         }
-        BornAboard y = Check.of(Lines.stations(3) + Lines.train("t", 0, 9, "a after 5 b after 5 c") + Lines.person("g", 1, "b", "a", "c", 0));
+        BornAboard y = Check.of(Lines.stations(3) + Lines.train("t", 0, 9, "a after 5 b after 5 c")
+            + Lines.person("g", 1, "b", "a", "c", 0));
         check.is("4 without a stop told", y.stops(0, 2, 1), 14);
     }
 
-    @Says({"It is at the next one so many minutes behind that as are told", "(one way or the other: a STOP BETWEEN; nobody gets off or on)"})
+    @Says({"It is at the next one so many minutes behind that as are told",
+        "(one way or the other: a STOP BETWEEN; nobody gets off or on)"})
     void p18_stopsBetween() {
         String line = Lines.stations(4) + "stop 7;" + Lines.train("t", 100, 9, "a after 5 b after 6 c");
         String[] births = {"a b", "b a", "b c", "c b", "a c", "a", "d a"};
-        int[][] due = {{1, 0, 112, 118}, {1, 0, 112, 118}, {0, 1, 105, 118}, {0, 1, 105, 118}, {0, 0, 105, 111}, {0, 0, 105, 111}, {0, 0, 105, 111}};
+        int[][] due = {{1, 0, 112, 118}, {1, 0, 112, 118}, {0, 1, 105, 118}, {0, 1, 105, 118}, {0, 0, 105, 111}, {0, 0, 105,
+            111}, {0, 0, 105, 111}};
         for (int n = 0; n < births.length; n++) {
             BornAboard x = Check.of(line + Lines.person("p", 1, births[n], "a", "c", 0));
             stopsAre(x, 0, 0, 1, 100, 0, 1, 1, 0);
@@ -232,6 +256,14 @@ public final class EdgesOfDaysTest extends Edges {
         BornAboard many = Check.of(line + Lines.people(9, 1, "a b", "a", "c", 0));
         check.is("one for many", many.stops(0, 1, 1), 112);
         check.is("one for many", many.whole(3), 1);
+        String away = Lines.person("r", 1, "b a", "a", "d", 0);
+        String aboard = Lines.person("p", 1, "a b", "a", "c", 0);
+        check.is("one of two is aboard", Check.of(line + aboard + away).whole(3), 1);
+        check.is("the other one of two is", Check.of(line + away + aboard).whole(3), 1);
+        BornAboard trains = Check.of(line + Lines.train("us", 0, 9, "b after 5 a after 6 d") + aboard
+            + Lines.person("q", 1, "b a", "b", "d", 0)
+            + Lines.person("o", 1, "a d", "b", "d", 0));
+        check.is("of all TRAINS together", trains.whole(3), 3);
         BornAboard absent = Check.of(line + Lines.person("p", 1, "a b", "a", "d", 0));
         check.is("none without him aboard", absent.stops(0, 1, 1), 105);
         String g = Lines.person("g", 1, "b", "a", "c", 0);
@@ -243,7 +275,8 @@ public final class EdgesOfDaysTest extends Edges {
 
     // ---- promise 19
 
-    @Says({"Of one of the PEOPLE: 0 where he is behind it, 1 the minute in which he got off last (NONE: never), 2 on how many TRAINS he rode, "
+    @Says({"Of one of the PEOPLE: 0 where he is behind it, 1 the minute in which he got off last (NONE: never), 2 on how "
+        + "many TRAINS he rode, "
         + "3 whether he ARRIVED, 4 whether he is STRANDED.", "NONE when there is none such, or for others."})
     void p19_noneSuch() {
         BornAboard x = Check.of(Lines.SMALL);
@@ -268,7 +301,8 @@ public final class EdgesOfDaysTest extends Edges {
     void p19_noTrainAndSixTrains() {
         StringBuilder text = new StringBuilder(Lines.stations(8));
         for (int t = 0; t < 6; t++) {
-            text.append(Lines.train("t" + Lines.place(t), 10 * t, 1, Lines.place(t) + " after 5 h after 5 " + Lines.place(t + 1)));
+            text.append(Lines.train("t" + Lines.place(t), 10 * t, 1, Lines.place(t) + " after 5 h after 5 "
+                + Lines.place(t + 1)));
         }
         BornAboard x = Check.of(text + Lines.person("p", 1, "a", "a", "h", 5) + Lines.person("q", 1, "a", "h", "a", 0)
             + Lines.person("r", 1, "a", "b", "b", 0));
@@ -280,7 +314,8 @@ public final class EdgesOfDaysTest extends Edges {
         row("whole", x::whole, 0, 0, 12, 0, 60, 1);
     }
 
-    @Says({"ARRIVED is, who got off in it where he wished to be.", "STRANDED is, who got off last where he did not, and is not hired."})
+    @Says({"ARRIVED is, who got off in it where he wished to be.",
+        "STRANDED is, who got off last where he did not, and is not hired."})
     void p19_arrivedAndStranded() {
         String line = Lines.stations(4) + Lines.train("t", 0, 12, "a after 1 b after 1 c");
         BornAboard x = Check.of(line + Lines.person("p", 1, "a", "a", "c", 1) + Lines.person("q", 1, "a", "a", "b", 1)
@@ -298,7 +333,8 @@ public final class EdgesOfDaysTest extends Edges {
 
     @Says("All of this is of a DAY from now on, as all is now, but for whom else is said.")
     void p19_aDayIsAsAllIsNow() {
-        BornAboard x = Check.of(Lines.stations(4) + Lines.train("t", 0, 12, "a after 1 b after 1 c") + Lines.person("p", 1, "b", "a", "b", 1));
+        BornAboard x = Check.of(Lines.stations(4) + Lines.train("t", 0, 12, "a after 1 b after 1 c")
+            + Lines.person("p", 1, "b", "a", "b", 1));
         faresAre(x, 0, 1, 1, 1, 1, 0);
         x.wish(0, 2);
         faresAre(x, 0, 2, 6, 1, 1, 0);
@@ -366,7 +402,8 @@ public final class EdgesOfDaysTest extends Edges {
     void p20_nobodyAndAll() {
         noneOutside("what of a new one", 5, new BornAboard()::whole);
         noneOutside("what", 5, started()::whole);
-        row("without TRAINS", Check.of(Lines.stations(1) + Lines.people(10, 1, "a", "a", "a", 0))::whole, 0, 0, 0, 0, NONE, 10);
+        row("without TRAINS", Check.of(Lines.stations(1) + Lines.people(10, 1, "a", "a", "a", 0))::whole, 0, 0, 0, 0, NONE,
+            10);
         String line = Lines.stations(3) + Lines.train("t", 0, 12, "a after 1 b after 1 c");
         row("all arrive", Check.of(line + Lines.people(10, 1, "a", "a", "c", 0))::whole, 10, 0, 2, 0, 2, 10);
         row("all are stranded", Check.of(line + Lines.people(10, 1, "a", "a", "b", 0))::whole, 0, 10, 2, 0, 2, 0);
@@ -398,13 +435,8 @@ public final class EdgesOfDaysTest extends Edges {
     @Says({"BECAUSE, of a TRAIN at its k-th STATION, as bits; 0 at its first and last one, and where it does not STOP.",
         "NONE when there are none such."})
     void p31_because() {
+        noneSuchCall(BornAboard::because);
         BornAboard x = Check.of(Lines.SMALL);
-        BornAboard y = Check.of(FULL);
-        noneOutside("STATION of 3", 2, k -> x.because(0, k));
-        noneOutside("STATION of 2", 1, k -> x.because(1, k));
-        noneOutside("TRAIN of 2", 1, t -> x.because(t, 0));
-        noneOutside("STATION of 8", 7, k -> y.because(5, k));
-        noneOutside("TRAIN of 6", 5, t -> y.because(t, 0));
         check.is("first of two", x.because(1, 0), 0);
         check.is("last of two", x.because(1, 1), 0);
         onlyAsks("because", z -> {
@@ -413,7 +445,8 @@ public final class EdgesOfDaysTest extends Edges {
         });
     }
 
-    @Says({"BECAUSE of whom a TRAIN STOPS at a STATION that is neither its first nor its last one: those who are aboard as it comes and were born there.", "0 at its first and last one, and where it does not STOP"})
+    @Says({"BECAUSE of whom a TRAIN STOPS at a STATION that is neither its first nor its last one: those who are aboard as "
+        + "it comes and were born there.", "0 at its first and last one, and where it does not STOP"})
     void p31_becauseOfNobodyAndAll() {
         String line = Lines.stations(5) + Lines.train("t", 0, 12, "a after 1 b after 1 c after 1 d");
         BornAboard all = Check.of(line + Lines.people(10, 1, "b", "a", "d", 0));
@@ -421,7 +454,8 @@ public final class EdgesOfDaysTest extends Edges {
         BornAboard ends = Check.of(line + Lines.people(5, 1, "a", "a", "d", 0) + Lines.person("q", 1, "d", "a", "d", 0));
         row("born at the ends", k -> ends.because(0, k), 0, 0, 0, 0);
         BornAboard x = Check.of(line + Lines.person("p", 1, "b", "a", "b", 0) + Lines.person("q", 1, "b", "b", "d", 0)
-            + Lines.person("r", 1, "c", "b", "d", 0) + Lines.person("s", 1, "c", "a", "b", 0) + Lines.person("o", 1, "b c", "a", "d", 0));
+            + Lines.person("r", 1, "c", "b", "d", 0) + Lines.person("s", 1, "c", "a", "b", 0)
+            + Lines.person("o", 1, "b c", "a", "d", 0));
         row("who comes, not who gets on; not who got off", k -> x.because(0, k), 0, 1, 4, 0);
     }
 
@@ -429,28 +463,25 @@ public final class EdgesOfDaysTest extends Edges {
 
     @Says({"LEFT, of a TRAIN ahead of its k-th STATION, as bits; NONE when there are none such."})
     void p32_noneSuch() {
-        BornAboard x = Check.of(Lines.SMALL);
-        BornAboard y = Check.of(FULL);
-        noneOutside("STATION of 3", 2, k -> x.left(0, k));
-        noneOutside("STATION of 2", 1, k -> x.left(1, k));
-        noneOutside("TRAIN of 2", 1, t -> x.left(t, 0));
-        noneOutside("STATION of 8", 7, k -> y.left(5, k));
-        noneOutside("TRAIN of 6", 5, t -> y.left(t, 0));
+        noneSuchCall(BornAboard::left);
         onlyAsks("left", z -> {
             z.left(0, 1);
             z.left(2, 0);
         });
     }
 
-    @Says("LEFT it have, ahead of a STATION, those who rode on this TRAIN, got off it ahead of that one, and were born there.")
+    @Says("LEFT it have, ahead of a STATION, those who rode on this TRAIN, got off it ahead of that one, and were born "
+        + "there.")
     void p32_whoLeft() {
-        String line = Lines.stations(4) + Lines.train("t", 0, 12, "a after 1 b after 1 c after 1 d") + Lines.train("us", 0, 12, "a after 1 c");
+        String line = Lines.stations(4) + Lines.train("t", 0, 12, "a after 1 b after 1 c after 1 d")
+            + Lines.train("us", 0, 12, "a after 1 c");
         String g = Lines.person("g", 1, "b", "a", "d", 0);
         BornAboard all = Check.of(line + g + Lines.people(9, 1, "d", "a", "b", 0));
         row("nine left at b", k -> all.left(0, k), 0, 0, 0, 1022);
         row("the other TRAIN", k -> all.left(1, k), 0, 0);
         BornAboard x = Check.of(line + g + Lines.person("p", 1, "b", "a", "b", 0) + Lines.person("q", 1, "a", "a", "b", 0)
-            + Lines.person("r", 1, "c", "a", "b", 0) + Lines.person("s", 1, "c", "b", "b", 0) + Lines.person("o", 1, "c d", "a", "b", 0)
+            + Lines.person("r", 1, "c", "a", "b", 0) + Lines.person("s", 1, "c", "b", "b", 0)
+            + Lines.person("o", 1, "c d", "a", "b", 0)
             + Lines.person("n", 1, "d", "a", "d", 0));
         row("got off there, rode not, is born elsewhere", k -> x.left(0, k), 0, 0, 8, 0);
         BornAboard y = Check.of(line + g + Lines.person("h", 1, "c", "a", "d", 0) + Lines.person("p", 1, "d", "a", "c", 0)
@@ -460,7 +491,8 @@ public final class EdgesOfDaysTest extends Edges {
 
     // ---- promise 33
 
-    @Says({"A CHILD that one has in a minute (0 .. 9999): where it is born (what 0; the STATION that was left, if it is between two), "
+    @Says({"A CHILD that one has in a minute (0 .. 9999): where it is born (what 0; the STATION that was left, if it is "
+        + "between two), "
         + "the second STATION (1; NONE at one).", "NONE when there are none such, or for others."})
     void p33_noneSuch() {
         BornAboard x = Check.of(Lines.SMALL);
@@ -492,15 +524,20 @@ public final class EdgesOfDaysTest extends Edges {
         }
     }
 
-    @Says({"is born where he is behind all that happens in that minute and ahead of it: aboard a TRAIN that has left a STATION "
-        + "(later than the minute in which it leaves it) between that one and its next one; else at the STATION where he is, or where his TRAIN is.",
+    @Says({"is born where he is behind all that happens in that minute and ahead of it: aboard a TRAIN that has left a "
+        + "STATION "
+        + "(later than the minute in which it leaves it) between that one and its next one; else at the STATION where he "
+        + "is, or where his TRAIN is.",
         "(A TRAIN leaves its first STATION, and one at which it does not STOP, in the minute in which it comes there.)"})
     void p33_whereOneIsInEachMinute() {
         // p: a 0, through b 2, a stop at c 4 to 5, d 8; between c and d the train stops for q.
         BornAboard x = Check.of(Lines.stations(4) + "stop 1;" + Lines.train("t", 0, 9, "a after 2 b after 2 c after 2 d")
-            + Lines.train("us", 8, 9, "d after 1 a") + Lines.person("p", 1, "c", "a", "d", 0) + Lines.person("q", 1, "c d", "a", "d", 0)
-            + Lines.person("r", 1, "a", "a", "c", 0) + Lines.person("s", 1, "a", "b", "d", 0) + Lines.person("o", 1, "a", "d", "a", 0));
-        childrenAre(x, 0, new int[][] {{0, 0, NONE}, {1, 0, 1}, {2, 1, NONE}, {3, 1, 2}, {4, 2, NONE}, {5, 2, NONE}, {6, 2, 3}, {7, 2, 3},
+            + Lines.train("us", 8, 9, "d after 1 a") + Lines.person("p", 1, "c", "a", "d", 0)
+            + Lines.person("q", 1, "c d", "a", "d", 0)
+            + Lines.person("r", 1, "a", "a", "c", 0) + Lines.person("s", 1, "a", "b", "d", 0)
+            + Lines.person("o", 1, "a", "d", "a", 0));
+        childrenAre(x, 0, new int[][] {{0, 0, NONE}, {1, 0, 1}, {2, 1, NONE}, {3, 1, 2}, {4, 2, NONE}, {5, 2, NONE}, {6, 2,
+            3}, {7, 2, 3},
             {8, 3, NONE}, {9, 3, NONE}});
         childrenAre(x, 2, new int[][] {{0, 0, NONE}, {3, 1, 2}, {4, 2, NONE}, {5, 2, NONE}, {6, 2, NONE}, {9999, 2, NONE}});
         childrenAre(x, 3, new int[][] {{0, 1, NONE}, {2, 1, NONE}, {3, 1, NONE}, {9999, 1, NONE}});
@@ -511,13 +548,15 @@ public final class EdgesOfDaysTest extends Edges {
     void p33_aLongStop() {
         BornAboard x = Check.of(Lines.stations(3) + "stop 30;" + Lines.train("t", 1439, 9, "a after 99 b after 99 c")
             + Lines.person("p", 1, "b", "a", "c", 0));
-        childrenAre(x, 0, new int[][] {{1438, 0, NONE}, {1439, 0, NONE}, {1440, 0, 1}, {1537, 0, 1}, {1538, 1, NONE}, {1567, 1, NONE}, {1568, 1, NONE},
+        childrenAre(x, 0, new int[][] {{1438, 0, NONE}, {1439, 0, NONE}, {1440, 0, 1}, {1537, 0, 1}, {1538, 1, NONE}, {1567,
+            1, NONE}, {1568, 1, NONE},
             {1569, 1, 2}, {1666, 1, 2}, {1667, 2, NONE}});
     }
 
     @Says("else at the STATION where he is, or where his TRAIN is.")
     void p33_whoGotOff() {
-        BornAboard x = Check.of(Lines.stations(3) + Lines.train("t", 0, 9, "a after 5 b after 5 c") + Lines.person("p", 1, "b", "a", "b", 0)
+        BornAboard x = Check.of(Lines.stations(3) + Lines.train("t", 0, 9, "a after 5 b after 5 c")
+            + Lines.person("p", 1, "b", "a", "b", 0)
             + Lines.person("q", 1, "b", "a", "c", 0));
         childrenAre(x, 0, new int[][] {{4, 0, 1}, {5, 1, NONE}, {9, 1, NONE}, {10, 1, NONE}, {14, 1, NONE}});
         childrenAre(x, 1, new int[][] {{4, 0, 1}, {5, 1, NONE}, {9, 1, NONE}, {10, 1, 2}, {13, 1, 2}, {14, 2, NONE}});
@@ -526,7 +565,8 @@ public final class EdgesOfDaysTest extends Edges {
     /** He changes trains in the minute in which he comes; what is behind all of that minute counts. */
     @Says("is born where he is behind all that happens in that minute")
     void p33_aChangeInOneMinute() {
-        BornAboard x = Check.of(Lines.stations(3) + Lines.train("t", 0, 1, "a after 5 c after 5 b") + Lines.train("us", 10, 1, "b after 3 c")
+        BornAboard x = Check.of(Lines.stations(3) + Lines.train("t", 0, 1, "a after 5 c after 5 b")
+            + Lines.train("us", 10, 1, "b after 3 c")
             + Lines.person("p", 1, "a", "a", "c", 0));
         childrenAre(x, 0, new int[][] {{9, 2, 1}, {10, 1, NONE}, {11, 1, 2}, {12, 1, 2}, {13, 2, NONE}});
     }
@@ -556,7 +596,8 @@ public final class EdgesOfDaysTest extends Edges {
     }
 
     @Says({"DAYS ON END: how many DAYS (what 0, the one that changes nothing, too; 31 if 30 were not enough)",
-        "DAYS ON END: DAY behind DAY, as people are behind the one ahead (nobody's wish, birth, hiring is another one), till a DAY behind which all are where they were ahead of it, or 30 DAYS went by."})
+        "DAYS ON END: DAY behind DAY, as people are behind the one ahead (nobody's wish, birth, hiring is another one), "
+            + "till a DAY behind which all are where they were ahead of it, or 30 DAYS went by."})
     void p34_30DaysAreEnoughOrNot() {
         check.is("one by one", daysTillStill(Check.of(SLOW)), 31);
         BornAboard x = Check.of(SLOW);
@@ -565,7 +606,8 @@ public final class EdgesOfDaysTest extends Edges {
         check.is("30 are just enough", x.settles(0), 30);
         x.day();
         check.is("29", x.settles(0), 29);
-        BornAboard never = Check.of(Lines.stations(2) + Lines.train("t", 0, 1, "a after 1 b") + Lines.train("us", 0, 1, "b after 1 a")
+        BornAboard never = Check.of(Lines.stations(2) + Lines.train("t", 0, 1, "a after 1 b")
+            + Lines.train("us", 0, 1, "b after 1 a")
             + Lines.person("p", 1, "a", "a", "a", 1));
         check.is("he stays", never.settles(0), 1);
         never.hire(0, true);
@@ -573,7 +615,8 @@ public final class EdgesOfDaysTest extends Edges {
         check.is("30 days bring him back", never.settles(2), 0);
     }
 
-    @Says({"GOOD at the end (1), how many are at the end not where they are now (2)", "the DAY (from 1 on) behind which GOOD is first the most (3)"})
+    @Says({"GOOD at the end (1), how many are at the end not where they are now (2)",
+        "the DAY (from 1 on) behind which GOOD is first the most (3)"})
     void p34_whatIsAtTheEnd() {
         for (int ahead = 0; ahead < 2; ahead++) {
             BornAboard x = Check.of(SLOW);
@@ -602,9 +645,11 @@ public final class EdgesOfDaysTest extends Edges {
             }
             row("settles", x::settles, 31 - ahead, good, elsewhere, first);
         }
-        BornAboard worse = Check.of(Lines.stations(2) + Lines.train("t", 0, 1, "a after 1 b") + Lines.people(3, 1, "a", "a", "b", 0));
+        BornAboard worse = Check.of(Lines.stations(2) + Lines.train("t", 0, 1, "a after 1 b")
+            + Lines.people(3, 1, "a", "a", "b", 0));
         row("one a day", worse::settles, 4, 3, 3, 3);
-        BornAboard ten = Check.of(Lines.stations(2) + Lines.train("t", 0, 12, "a after 1 b") + Lines.people(10, 1, "a", "a", "b", 0));
+        BornAboard ten = Check.of(Lines.stations(2) + Lines.train("t", 0, 12, "a after 1 b")
+            + Lines.people(10, 1, "a", "a", "b", 0));
         row("ten at once", ten::settles, 2, 10, 10, 1);
         BornAboard still = Check.of(Lines.stations(2) + Lines.person("p", 1, "a", "a", "b", 0));
         row("nobody gets there", still::settles, 1, 0, 0, 1);
@@ -623,7 +668,8 @@ public final class EdgesOfDaysTest extends Edges {
 
     @Says("(nobody's wish, birth, hiring is another one)")
     void p34_daysAreNoYears() {
-        BornAboard x = Check.of(Lines.stations(2) + Lines.train("t", 0, 9, "a after 1 b") + Lines.train("us", 50, 9, "b after 1 a")
+        BornAboard x = Check.of(Lines.stations(2) + Lines.train("t", 0, 9, "a after 1 b")
+            + Lines.train("us", 50, 9, "b after 1 a")
             + Lines.people(3, 99, "b", "a", "b", 1));
         row("there behind one DAY, and they stay", x::settles, 2, 3, 3, 1);
         check.is("no DRAW", x.has(9), 1);

@@ -16,10 +16,12 @@ public final class EdgesOfHiringTest extends Edges {
     private static String chain(int lastPrice) {
         StringBuilder text = new StringBuilder(Lines.stations(9)
             + Lines.train("t", 0, 12, "a after 1 b after 1 c after 1 d after 1 e after 1 f after 1 g after 1 h")
-            + Lines.person("p", 1, "h", "a", "g", 0) + Lines.person("o", 1, "h", "a", "h", 0) + Lines.person("n", 1, "h", "a", "g", 1)
+            + Lines.person("p", 1, "h", "a", "g", 0) + Lines.person("o", 1, "h", "a", "h", 0)
+            + Lines.person("n", 1, "h", "a", "g", 1)
             + Lines.person("m", 1, "h", "h", "h", 0));
         for (int g = 0; g < 6; g++) {
-            text.append(Lines.person("g" + Lines.place(g), 1, "" + Lines.place(g + 1), "" + Lines.place(g), "i", g == 5 ? lastPrice : 99));
+            text.append(Lines.person("g" + Lines.place(g), 1, "" + Lines.place(g + 1), ""
+                + Lines.place(g), "i", g == 5 ? lastPrice : 99));
         }
         return text.toString();
     }
@@ -66,7 +68,8 @@ public final class EdgesOfHiringTest extends Edges {
         });
     }
 
-    @Says("the HIRING with the least COIN by which somebody (not hired in it) is behind the DAY where he wishes to be; of like ones the least bits.")
+    @Says("the HIRING with the least COIN by which somebody (not hired in it) is behind the DAY where he wishes to be; of "
+        + "like ones the least bits.")
     void p21_theLeastCoinThenTheLeastBits() {
         String y = guide("y", "b", "a", 1);
         String z = guide("z", "c", "b", 1);
@@ -80,7 +83,8 @@ public final class EdgesOfHiringTest extends Edges {
         BornAboard x = Check.of(ONE_OR_TWO.replace("price 0", "price 5") + guide("x", "c", "a", 2));
         x.hiring(1);
         leastIs(x, 0, 2, 2);
-        BornAboard self = Check.of(Lines.stations(3) + Lines.train("t", 0, 9, "a after 1 b") + Lines.person("p", 1, "c", "a", "c", 5)
+        BornAboard self = Check.of(Lines.stations(3) + Lines.train("t", 0, 9, "a after 1 b")
+            + Lines.person("p", 1, "c", "a", "c", 5)
             + Lines.person("q", 1, "c", "c", "b", 5));
         leastIs(self, 0, NONE, NONE);
         leastIs(self, 1, NONE, NONE);
@@ -149,12 +153,23 @@ public final class EdgesOfHiringTest extends Edges {
         leastIs(x, 0, 0, 0);
         row("places", x::places, 0, 0, 0);
         row("most", x::most, 1, 0, 0);
+        String line = Lines.stations(5) + Lines.train("t", 0, 9, "a after 1 b after 1 c");
+        String p = Lines.person("p", 1, "d", "a", "b", 0);
+        Check.tell(x, line + guide("x", "b", "a", 1) + p + guide("w", "d", "d", 9));
+        leastIs(x, 1, 1, 1);
+        row("places", x::places, 1, 1, 1);
+        row("most", x::most, 1, 1, 1);
+        Check.tell(x, line + guide("x", "b", "a", 0) + p + guide("w", "d", "d", 9));
+        leastIs(x, 1, NONE, NONE);
+        row("places", x::places, NONE, NONE, NONE);
+        row("most", x::most, 0, 0, 0);
     }
 
     @Says("somebody (not hired in it)")
     void p21_whoIsHiredIsNotGotThere() {
         // h has the only seat, whoever is hired.
-        BornAboard x = Check.of(Lines.stations(3) + Lines.train("t", 0, 1, "a after 1 b") + Lines.person("h", 1, "c", "a", "b", 0)
+        BornAboard x = Check.of(Lines.stations(3) + Lines.train("t", 0, 1, "a after 1 b")
+            + Lines.person("h", 1, "c", "a", "b", 0)
             + Lines.person("p", 1, "c", "a", "b", 5));
         leastIs(x, 0, 0, 0);
         leastIs(x, 1, NONE, NONE);
@@ -183,8 +198,11 @@ public final class EdgesOfHiringTest extends Edges {
     @Says("the HIRING by which the most (not hired in it) are; of like ones the least COIN, then the least bits.")
     void p22_theMostThenTheLeastCoinThenTheLeastBits() {
         row("one more is worth 99", Check.of(ONE_OR_TWO + guide("x", "c", "a", 99))::most, 1, 99, 2);
+        row("a cheap one who brings nobody", Check.of(ONE_OR_TWO + guide("x", "c", "a", 99)
+            + guide("w", "d", "a", 1))::most, 1, 99, 2);
         row("as many for less", Check.of(ONE_OR_TWO + guide("x", "c", "a", 99) + guide("w", "c", "a", 98))::most, 1, 98, 4);
-        row("as dear: the least bits", Check.of(ONE_OR_TWO + guide("x", "c", "a", 98) + guide("w", "c", "a", 98))::most, 1, 98, 2);
+        row("as dear: the least bits", Check.of(ONE_OR_TWO + guide("x", "c", "a", 98)
+            + guide("w", "c", "a", 98))::most, 1, 98, 2);
         row("two as dear as one: the least bits", Check.of(ONE_OR_TWO + guide("y", "b", "a", 1) + guide("z", "c", "b", 1)
             + guide("x", "c", "a", 2))::most, 1, 2, 6);
         // Hired, the guide is where he wishes to be no more: one is gained, one is lost.
@@ -198,7 +216,8 @@ public final class EdgesOfHiringTest extends Edges {
         row("of nobody", new BornAboard()::places, 0, 0, 0);
         row("without TRAINS", Check.of(Lines.stations(14) + Lines.people(10, 1, "a", "a", "a", 1))::places, 0, 0, 0);
         row("two STATIONS", Check.of(Lines.stations(3) + Lines.train("t", 0, 1, "a after 1 b"))::places, 0, 0, 0);
-        row("three, nobody", Check.of(Lines.stations(3) + Lines.train("t", 0, 1, "a after 1 b after 1 c"))::places, NONE, NONE, NONE);
+        row("three, nobody", Check.of(Lines.stations(3) + Lines.train("t", 0, 1, "a after 1 b after 1 c"))::places, NONE,
+            NONE, NONE);
         row("three, another TRAIN's first", Check.of(Lines.stations(3) + Lines.train("t", 0, 1, "a after 1 b after 1 c")
             + Lines.train("us", 0, 1, "b after 1 a"))::places, 0, 0, 0);
         row("three, another TRAIN's last", Check.of(Lines.stations(3) + Lines.train("t", 0, 1, "a after 1 b after 1 c")
@@ -213,28 +232,33 @@ public final class EdgesOfHiringTest extends Edges {
         });
     }
 
-    @Says("the HIRING with the fewest people by which at each STATION that a TRAIN calls at some TRAIN STOPS; of like ones the least COIN, then the least bits.")
+    @Says("the HIRING with the fewest people by which at each STATION that a TRAIN calls at some TRAIN STOPS; of like ones "
+        + "the least COIN, then the least bits.")
     void p23_theFewestThenTheLeastCoinThenTheLeastBits() {
         String line = Lines.stations(5) + Lines.train("t", 0, 9, "a after 1 b after 1 c after 1 d");
         String rider = Lines.person("w", 1, "c", "b", "d", 0);
         // Whoever makes it stop at b lets w get on, who makes it stop at c.
         String two = guide("y", "c", "a", 1) + guide("z", "b", "a", 1);
         row("the cheaper one alone", Check.of(line + guide("x", "b", "a", 99) + rider + two)::places, 1, 1, 8);
-        String without = Lines.stations(5) + Lines.train("t", 0, 9, "a after 1 b after 1 c after 1 d") + Lines.train("us", 90, 9, "e after 1 b after 1 d");
+        String without = Lines.stations(5) + Lines.train("t", 0, 9, "a after 1 b after 1 c after 1 d")
+            + Lines.train("us", 90, 9, "e after 1 b after 1 d");
         row("one dear, not two cheap ones", Check.of(without + guide("x", "b", "a", 99) + rider + guide("y", "c", "a", 1)
             + guide("z", "b", "e", 1))::places, 1, 99, 1);
         row("the dear one last", Check.of(without + rider + guide("y", "c", "a", 1) + guide("z", "b", "e", 1)
             + guide("x", "b", "a", 99))::places, 1, 99, 8);
         row("two, the least COIN", Check.of(line + guide("x", "b", "a", 5) + guide("v", "b", "a", 4) + guide("y", "c", "a", 3)
             + guide("z", "c", "a", 2))::places, 2, 6, 10);
-        row("two as dear, the least bits", Check.of(line + guide("x", "b", "a", 5) + guide("v", "b", "a", 5) + guide("y", "c", "a", 3)
+        row("two as dear, the least bits", Check.of(line + guide("x", "b", "a", 5) + guide("v", "b", "a", 5)
+            + guide("y", "c", "a", 3)
             + guide("z", "c", "a", 3))::places, 2, 8, 5);
     }
 
     // ---- promise 35
 
-    @Says({"TO GET BOTH THERE: the HIRING with the least COIN by which two (neither hired in it) are both behind the DAY where they wish to be; "
-        + "of like ones the least bits: COIN (what 0), bits (1).", "NONE when no HIRING does, it is one, there are no two such, or for others."})
+    @Says({"TO GET BOTH THERE: the HIRING with the least COIN by which two (neither hired in it) are both behind the DAY "
+        + "where they wish to be; "
+        + "of like ones the least bits: COIN (what 0), bits (1).",
+            "NONE when no HIRING does, it is one, there are no two such, or for others."})
     void p35_both() {
         BornAboard x = Check.of(CHAIN);
         bothAre(x, 0, 2, 594, 1008);

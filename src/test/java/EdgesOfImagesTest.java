@@ -3,7 +3,8 @@ import java.util.Arrays;
 /** The edges of promises 36 to 39: images, and how many calls were refused. */
 public final class EdgesOfImagesTest extends Edges {
     /** Fourteen stations, three people: p has no price. */
-    private static final String LINE = Lines.stations(14) + Lines.person("p", 7, "a", "b", "c", 0) + Lines.person("q", 8, "b c", "d", "e", 1)
+    private static final String LINE = Lines.stations(14) + Lines.person("p", 7, "a", "b", "c", 0)
+        + Lines.person("q", 8, "b c", "d", "e", 1)
         + Lines.person("r", 9, "n", "n", "n", 99);
 
     public static void main(String[] args) {
@@ -38,7 +39,8 @@ public final class EdgesOfImagesTest extends Edges {
 
     @Says("AN IMAGE: YEAR (two bytes, the higher first)")
     void p36_yearsOfTwoBytes() {
-        int[][] rows = {{0, 0, 0}, {1, 0, 1}, {255, 0, 255}, {256, 1, 0}, {257, 1, 1}, {511, 1, 255}, {512, 2, 0}, {9983, 38, 255}, {9984, 39, 0},
+        int[][] rows = {{0, 0, 0}, {1, 0, 1}, {255, 0, 255}, {256, 1, 0}, {257, 1, 1}, {511, 1, 255}, {512, 2, 0}, {9983, 38,
+            255}, {9984, 39, 0},
             {9999, 39, 15}};
         for (int[] row : rows) {
             BornAboard x = new BornAboard();
@@ -54,9 +56,11 @@ public final class EdgesOfImagesTest extends Edges {
         octetsAre(y, Check.sealed(1, 4));
     }
 
-    @Says("for each of the people age, born (a STATION's number and 1), the second one (0 without), at, to, 1 if hired, else 0")
+    @Says("for each of the people age, born (a STATION's number and 1), the second one (0 without), at, to, 1 if hired, "
+        + "else 0")
     void p36_firstAndLastStations() {
-        BornAboard x = Check.of(Lines.stations(14) + Lines.person("p", 0, "a", "a", "a", 1) + Lines.person("q", 99, "n a", "n", "n", 1)
+        BornAboard x = Check.of(Lines.stations(14) + Lines.person("p", 0, "a", "a", "a", 1)
+            + Lines.person("q", 99, "n a", "n", "n", 1)
             + Lines.person("r", 1, "a n", "a", "n", 1));
         x.hire(1, true);
         x.image();
@@ -274,7 +278,8 @@ public final class EdgesOfImagesTest extends Edges {
         }
         // With one STATION.
         String one = "station a;" + Lines.person("p", 1, "a", "a", "a", 0);
-        int[][] rows = {{0, 0, 1, 1, 0, 0, 0, 0, 1}, {0, 0, 1, 1, 1, 0, 0, 0, 0}, {0, 0, 1, 2, 0, 0, 0, 0, 0}, {0, 0, 1, 1, 2, 0, 0, 0, 0},
+        int[][] rows = {{0, 0, 1, 1, 0, 0, 0, 0, 1}, {0, 0, 1, 1, 1, 0, 0, 0, 0}, {0, 0, 1, 2, 0, 0, 0, 0, 0}, {0, 0, 1, 1, 2,
+            0, 0, 0, 0},
             {0, 0, 1, 1, 0, 1, 0, 0, 0}, {0, 0, 1, 1, 0, 0, 1, 0, 0}};
         for (int[] row : rows) {
             BornAboard x = Check.of(one);
@@ -298,12 +303,14 @@ public final class EdgesOfImagesTest extends Edges {
 
     // ---- promise 39
 
-    @Says("How many were refused: 0 feed(), end(); 1 line(); 2 hire(), wish(), move(), hiring(); 3 years(); 4 undo(); 5 seed(), on(). NONE for others.")
+    @Says("How many were refused: 0 feed(), end(); 1 line(); 2 hire(), wish(), move(), hiring(); 3 years(); 4 undo(); 5 "
+        + "seed(), on(). NONE for others.")
     void p39_eachIsCountedApart() {
         BornAboard x = new BornAboard();
         noneOutside("status of a new one", 5, x::status);
         Calls[][] calls = {{y -> y.end(-1), y -> y.end(1)}, {y -> Check.tell(y, "x")},
-            {y -> y.hire(0, true), y -> y.wish(0, 0), y -> y.move(0, 0), y -> y.hiring(1)}, {y -> y.years(0)}, {BornAboard::undo},
+            {y -> y.hire(0, true), y -> y.wish(0, 0), y -> y.move(0, 0), y -> y.hiring(1)}, {y -> y.years(0)},
+                {BornAboard::undo},
             {y -> y.seed(-1), BornAboard::on}};
         int[] due = new int[6];
         row("at first", x::status, due);

@@ -8,8 +8,10 @@ public final class EdgesOfStateTest extends Edges {
 
     // ---- promise 6
 
-    @Says("How many there are: 0 STATIONS, 1 TRAINS, 2 PEOPLE, 3 hired ones, 4 COIN of these, 5 minutes that a STOP costs, 6 YEAR, "
-        + "7 DEAD STATIONS, 8 ACTS that can be undone, 9 the seed, 10 people who are where they wish to be now. NONE for others.")
+    @Says("How many there are: 0 STATIONS, 1 TRAINS, 2 PEOPLE, 3 hired ones, 4 COIN of these, 5 minutes that a STOP costs, "
+        + "6 YEAR, "
+        + "7 DEAD STATIONS, 8 ACTS that can be undone, 9 the seed, 10 people who are where they wish to be now. NONE for "
+        + "others.")
     void p06_others() {
         noneOutside("has of a new one", 10, new BornAboard()::has);
         noneOutside("has", 10, started()::has);
@@ -70,7 +72,8 @@ public final class EdgesOfStateTest extends Edges {
         check.is("none", Check.of("station a;" + Lines.person("p", 1, "a", "a", "a", 0)).has(7), 0);
         check.is("none of two", Check.of(Lines.stations(2) + Lines.person("p", 1, "a", "a", "a", 0)
             + Lines.person("q", 1, "b", "a", "a", 0)).has(7), 0);
-        check.is("between two is at neither", Check.of(Lines.stations(3) + Lines.person("p", 1, "a b", "a", "a", 0)).has(7), 3);
+        check.is("between two is at neither", Check.of(Lines.stations(3)
+            + Lines.person("p", 1, "a b", "a", "a", 0)).has(7), 3);
         check.is("where one is, or wishes to be, does not count",
             Check.of(Lines.stations(3) + Lines.person("p", 1, "a", "b", "c", 0)).has(7), 2);
     }
@@ -156,7 +159,8 @@ public final class EdgesOfStateTest extends Edges {
 
     // ---- promise 8
 
-    @Says({"Of a STATION: 0 people born there, as bits, 1 how many are there, 2 how many wish to be there, 3 how many TRAINS call there.",
+    @Says({"Of a STATION: 0 people born there, as bits, 1 how many are there, 2 how many wish to be there, 3 how many "
+        + "TRAINS call there.",
         "NONE when there is none such, or for others."})
     void p08_nobodyAndAllAtAStation() {
         StringBuilder text = new StringBuilder(Lines.stations(14) + Lines.people(10, 1, "n", "m", "l", 0));
@@ -182,7 +186,8 @@ public final class EdgesOfStateTest extends Edges {
 
     @Says("0 people born there, as bits")
     void p08_bornBetweenIsBornAtNeither() {
-        BornAboard x = Check.of(Lines.stations(2) + Lines.person("p", 1, "a b", "a", "a", 0) + Lines.person("q", 1, "b", "a", "a", 0)
+        BornAboard x = Check.of(Lines.stations(2) + Lines.person("p", 1, "a b", "a", "a", 0)
+            + Lines.person("q", 1, "b", "a", "a", 0)
             + Lines.person("r", 1, "b a", "b", "a", 0));
         check.is("at a", x.station(0, 0), 0);
         check.is("at b", x.station(1, 0), 2);
@@ -190,14 +195,17 @@ public final class EdgesOfStateTest extends Edges {
 
     // ---- promise 9
 
-    @Says({"Of a TRAIN: 0 its minute, 1 seats, 2 how many STATIONS, 10 and k its k-th STATION, 20 and k (1 and on) minutes to it from the one ahead.",
+    @Says({"Of a TRAIN: 0 its minute, 1 seats, 2 how many STATIONS, 10 and k its k-th STATION, 20 and k (1 and on) minutes "
+        + "to it from the one ahead.",
         "NONE when there is none such, or for others."})
     void p09_aTrainOf2AndOf8Stations() {
         BornAboard x = Check.of(Lines.stations(14) + Lines.train("t", 0, 1, "n after 99 a")
             + Lines.train("us", 1439, 12, "h after 1 g after 2 f after 3 e after 4 d after 5 c after 6 b after 99 a"));
-        int[] two = {0, 1, 2, NONE, NONE, NONE, NONE, NONE, NONE, NONE, 13, 0, NONE, NONE, NONE, NONE, NONE, NONE, NONE, NONE, NONE, 99,
+        int[] two = {0, 1, 2, NONE, NONE, NONE, NONE, NONE, NONE, NONE, 13, 0, NONE, NONE, NONE, NONE, NONE, NONE, NONE, NONE,
+            NONE, 99,
             NONE, NONE, NONE, NONE, NONE, NONE, NONE, NONE, NONE, NONE, NONE, NONE};
-        int[] eight = {1439, 12, 8, NONE, NONE, NONE, NONE, NONE, NONE, NONE, 7, 6, 5, 4, 3, 2, 1, 0, NONE, NONE, NONE, 1, 2, 3, 4, 5, 6,
+        int[] eight = {1439, 12, 8, NONE, NONE, NONE, NONE, NONE, NONE, NONE, 7, 6, 5, 4, 3, 2, 1, 0, NONE, NONE, NONE, 1, 2,
+            3, 4, 5, 6,
             99, NONE, NONE, NONE, NONE, NONE, NONE};
         row("what of two", what -> x.train(0, what), two);
         row("what of eight", what -> x.train(1, what), eight);
@@ -212,10 +220,12 @@ public final class EdgesOfStateTest extends Edges {
 
     // ---- promise 10
 
-    @Says({"Of one of the PEOPLE: 0 age, 1 where born (the first STATION), 2 the second one (NONE without), 3 where now, 4 wish, 5 price, 6 whether hired.",
+    @Says({"Of one of the PEOPLE: 0 age, 1 where born (the first STATION), 2 the second one (NONE without), 3 where now, 4 "
+        + "wish, 5 price, 6 whether hired.",
         "NONE when there is none such, or for others."})
     void p10_peopleAtTheEdges() {
-        BornAboard x = Check.of(Lines.stations(14) + Lines.person("p", 0, "a", "n", "m", 0) + Lines.person("q", 99, "n a", "a", "n", 99)
+        BornAboard x = Check.of(Lines.stations(14) + Lines.person("p", 0, "a", "n", "m", 0)
+            + Lines.person("q", 99, "n a", "a", "n", 99)
             + Lines.person("r", 1, "b n", "b", "b", 1));
         row("p", what -> x.person(0, what), 0, 0, NONE, 13, 12, 0, 0);
         row("q", what -> x.person(1, what), 99, 13, 0, 0, 13, 99, 0);

@@ -160,7 +160,8 @@ public final class EdgesOfTextTest extends Edges {
     /** What stood behind the end is no part of a word or a number that ends there. */
     @Says("The tape has its first n bytes alone: true")
     void p03_whatStoodBehindTheEndIsGone() {
-        String[] texts = {"stop 5|5;", "stop 12|34;", "stop 5|x;", "sto|p 5;", "station a|b;", "station a|;", "station abcdef|g;"};
+        String[] texts = {"stop 5|5;", "stop 12|34;", "stop 5|x;", "sto|p 5;", "station a|b;", "station a|;",
+            "station abcdef|g;"};
         for (String text : texts) {
             int end = text.indexOf('|');
             BornAboard x = new BornAboard();
@@ -289,7 +290,8 @@ public final class EdgesOfTextTest extends Edges {
 
     // ---- promise 5
 
-    @Says("Of the latest line(): its FAULT (what 0; 0 without, and ahead of any), its place (1; NONE without). NONE for another what.")
+    @Says("Of the latest line(): its FAULT (what 0; 0 without, and ahead of any), its place (1; NONE without). NONE for "
+        + "another what.")
     void p05_faultIsOfTheLatestLine() {
         BornAboard x = new BornAboard();
         row("ahead of any", x::fault, 0, NONE);
@@ -314,7 +316,8 @@ public final class EdgesOfTextTest extends Edges {
         String some = "stop 5;".repeat(89);
         for (String last : new String[] {"stop 5;", "station a;", "\nstop\n5\n;\n"}) {
             check.sound(some + last, 90);
-            for (String more : new String[] {"stop 5;", "station b;", "train", "person", "x", "abcdefg", "12345", "stop 99;", "to"}) {
+            for (String more : new String[] {"stop 5;", "station b;", "train", "person", "x", "abcdefg", "12345", "stop 99;",
+                "to"}) {
                 check.fault(some + last + more, 5, some.length() + last.length());
                 check.fault(some + last + " \n" + more, 5, some.length() + last.length() + 2);
             }
@@ -392,17 +395,20 @@ public final class EdgesOfTextTest extends Edges {
         check.is("behind a line with one", x.has(5), 4);
     }
 
-    @Says({"train NAME from N seats N calls NAME after N NAME { after N NAME } (0 .. 1439, 1 .. 12; STATIONS, unlike ones, 2 to 8; 1 .. 99 minutes from the one ahead; 6 TRAINS)",
+    @Says({"train NAME from N seats N calls NAME after N NAME { after N NAME } (0 .. 1439, 1 .. 12; STATIONS, unlike ones, "
+        + "2 to 8; 1 .. 99 minutes from the one ahead; 6 TRAINS)",
         "4 a NUMBER that can't be, at its first byte"})
     void p05_aTrainsNumbers() {
         range(AB + "train t from ", " seats 1 calls a after 1 b;", 0, 1439, x -> x.train(0, 0));
         range(AB + "train t from 0 seats ", " calls a after 1 b;", 1, 12, x -> x.train(0, 1));
         range(AB + "train t from 0 seats 1 calls a after ", " b;", 1, 99, x -> x.train(0, 21));
-        String long7 = Lines.stations(8) + "train t from 0 seats 1 calls a after 1 b after 1 c after 1 d after 1 e after 1 f after 1 g after ";
+        String long7 = Lines.stations(8)
+            + "train t from 0 seats 1 calls a after 1 b after 1 c after 1 d after 1 e after 1 f after 1 g after ";
         range(long7, " h;", 1, 99, x -> x.train(0, 27));
     }
 
-    @Says({"person NAME age N born NAME { NAME } at NAME to NAME price N (0 .. 99; a STATION, or two unlike ones: between them; STATIONS; 0 .. 99, 0: not to be hired; 10 PEOPLE)",
+    @Says({"person NAME age N born NAME { NAME } at NAME to NAME price N (0 .. 99; a STATION, or two unlike ones: between "
+        + "them; STATIONS; 0 .. 99, 0: not to be hired; 10 PEOPLE)",
         "4 a NUMBER that can't be, at its first byte"})
     void p05_aPersonsNumbers() {
         range(AB + "person p age ", " born a at a to a price 0;", 0, 99, x -> x.person(0, 0));
@@ -445,10 +451,15 @@ public final class EdgesOfTextTest extends Edges {
                 check.fault(text + Lines.place(k) + ";", 3, text.length());
             }
         }
+        String back = Lines.stations(9) + "train t from 0 seats 1 calls i after 5 h after 5 ";
+        check.fault(back + "i;", 3, back.length());
+        check.fault(back + "h;", 3, back.length());
+        check.sound(back + "a;", 10);
         check.sound(AB + Lines.train("t", 0, 1, "a after 1 b") + Lines.train("us", 0, 1, "a after 1 b"), 4);
     }
 
-    @Says({"a STATION, or two unlike ones: between them", "or one that must be unlike and is there already, at its first byte"})
+    @Says({"a STATION, or two unlike ones: between them",
+        "or one that must be unlike and is there already, at its first byte"})
     void p05_bornAtOneOrBetweenTwoUnlikeOnes() {
         String head = AB + "person p age 1 born ";
         String tail = " at a to a price 0;";
@@ -465,10 +476,12 @@ public final class EdgesOfTextTest extends Edges {
     @Says("a third NAME behind born, an OWN WORD but at there, at its first byte")
     void p05_aThirdNameBehindBorn() {
         String head = Lines.stations(3) + "person p age 1 born ";
-        for (String third : new String[] {"c", "a", "x", "p", "abcdef", "to", "price", "born", "person", "station", "5", ";"}) {
+        for (String third : new String[] {"c", "a", "x", "p", "abcdef", "to", "price", "born", "person", "station", "5",
+            ";"}) {
             check.fault(head + "a b " + third + " at a to a price 0;", 1, head.length() + 4);
         }
-        for (String second : new String[] {"to", "price", "born", "age", "person", "station", "stop", "train", "from", "seats", "calls",
+        for (String second : new String[] {"to", "price", "born", "age", "person", "station", "stop", "train", "from",
+            "seats", "calls",
             "after", "5", ";"}) {
             check.fault(head + "a " + second + " at a to a price 0;", 1, head.length() + 2);
         }
@@ -487,8 +500,10 @@ public final class EdgesOfTextTest extends Edges {
         check.fault("station abcdefg;", 1, 14);
         check.fault("station abcdefgh;", 1, 14);
         check.fault("station " + "a".repeat(1592), 1, 14);
-        for (String text : new String[] {"", "station ", "station a ", "stop ", "stop 5 ", "train ", "train t ", "train t from 1 seats ",
-            AB + "train t from 1 seats 1 calls a after 1 b ", AB + "person p age 1 born a ", AB + "person p age 1 born a b at a to b "}) {
+        for (String text : new String[] {"", "station ", "station a ", "stop ", "stop 5 ", "train ", "train t ",
+            "train t from 1 seats ",
+            AB + "train t from 1 seats 1 calls a after 1 b ", AB + "person p age 1 born a ", AB
+                + "person p age 1 born a b at a to b "}) {
             check.fault(text + "abcdefg", 1, text.length() + 6);
             check.fault(text + "stations", 1, text.length() + 6);
             check.fault(text + "personx", 1, text.length() + 6);
@@ -525,6 +540,17 @@ public final class EdgesOfTextTest extends Edges {
                 check.sound(text + "y" + behind[kind], 4);
             }
         }
+        StringBuilder all = new StringBuilder(AB);
+        for (int t = 0; t < 6; t++) {
+            all.append(Lines.train("t" + Lines.place(t), 0, 1, "a after 1 b"));
+        }
+        all.append(Lines.people(9, 1, "a", "a", "a", 0));
+        for (String there : new String[] {"a", "b", "ta", "tf", "pa", "pi"}) {
+            check.fault(all + "person " + there + " age", 2, all.length() + 7);
+            check.fault(all + "station " + there + ";", 2, all.length() + 8);
+        }
+        BornAboard x = Check.of(Lines.stations(14) + all.substring(AB.length()));
+        check.is("a line's names go with it", Check.tell(x, "station ta;station n;station pi;station tf;station c;"), 5);
         String six = "station abcdef;station abcde;station bcdef;station abcdeg;";
         check.sound(six, 4);
         check.fault(six + "station abcdef;", 2, six.length() + 8);
@@ -535,8 +561,10 @@ public final class EdgesOfTextTest extends Edges {
     void p05_onlyStationsToldAheadAreAsked() {
         String t = AB + Lines.train("t", 0, 1, "a after 1 b") + Lines.person("p", 1, "a", "a", "a", 0);
         String[] asks = {"train us from 0 seats 1 calls ", "train us from 0 seats 1 calls a after 1 ", "person q age 1 born ",
-            "person q age 1 born a ", "person q age 1 born a at ", "person q age 1 born a b at ", "person q age 1 born a at a to "};
-        String[] rests = {" after 1 b;", ";", " at a to a price 0;", " at a to a price 0;", " to a price 0;", " to a price 0;", " price 0;"};
+            "person q age 1 born a ", "person q age 1 born a at ", "person q age 1 born a b at ",
+                "person q age 1 born a at a to "};
+        String[] rests = {" after 1 b;", ";", " at a to a price 0;", " at a to a price 0;", " to a price 0;",
+            " to a price 0;", " price 0;"};
         for (int k = 0; k < asks.length; k++) {
             String text = t + asks[k];
             for (String none : new String[] {"t", "p", "c", "aa", "us", "q", "zzzzzz"}) {
@@ -546,9 +574,11 @@ public final class EdgesOfTextTest extends Edges {
         }
     }
 
-    @Says({"an OWN WORD where a NAME must be", "OWN WORDS, which no NAME is: station, stop, train, from, seats, calls, after, person, age, born, at, to, price."})
+    @Says({"an OWN WORD where a NAME must be",
+        "OWN WORDS, which no NAME is: station, stop, train, from, seats, calls, after, person, age, born, at, to, price."})
     void p05_noNameIsAnOwnWord() {
-        for (String own : new String[] {"station", "stop", "train", "from", "seats", "calls", "after", "person", "age", "born", "at", "to",
+        for (String own : new String[] {"station", "stop", "train", "from", "seats", "calls", "after", "person", "age",
+            "born", "at", "to",
             "price"}) {
             for (String text : new String[] {"station ", "train ", "person ", AB + "train t from 1 seats 1 calls ",
                 AB + "train t from 1 seats 1 calls a after 1 ", AB + "person p age 1 born ", AB + "person p age 1 born a at ",
@@ -594,6 +624,7 @@ public final class EdgesOfTextTest extends Edges {
             expect("station q" + c + ";", letter || blank, 1, b == ';' ? 10 : 9);
             expect("station " + c + "q;", letter || blank, 1, 8);
             expect("stop 1" + c + ";", digit || blank, 1, b == ';' ? 7 : 6);
+            expect(AB + "person p age " + c + "1 born a at a to a price 0;", digit || blank, 3, AB.length() + 13);
             expect("stop" + c + "7;", blank, 1, letter ? 0 : 4);
             expect("stop 7;" + c, blank, 1, 7);
         }
@@ -610,10 +641,12 @@ public final class EdgesOfTextTest extends Edges {
 
     @Says("(words and numbers side by side need one)")
     void p05_wordsAndNumbersNeedABlankBetween() {
-        String[] texts = {"stop|5;", "stop 5|stop 6;", "train t from|5 seats", "train t from 5|seats 5", "train t from 5 seats|5 calls",
+        String[] texts = {"stop|5;", "stop 5|stop 6;", "train t from|5 seats", "train t from 5|seats 5",
+            "train t from 5 seats|5 calls",
             AB + "train t from 5 seats 5|calls a", AB + "train t from 5 seats 5 calls a after|5 b", "station a|5;",
             AB + "train t from 5 seats 5 calls a after 5|b;", "person p age|5 born", AB + "person p age 5|born a",
-            AB + "person p age 5 born a at a to a price|5;", AB + "person p age 5 born a|5 at", "train t from 5|abcdefgh", "stop|12345;"};
+            AB + "person p age 5 born a at a to a price|5;", AB
+                + "person p age 5 born a|5 at", "train t from 5|abcdefgh", "stop|12345;"};
         for (String text : texts) {
             check.fault(text.replace("|", ""), 1, text.indexOf('|'));
         }
@@ -646,7 +679,8 @@ public final class EdgesOfTextTest extends Edges {
 
     @Says("words and numbers whole, at their first byte")
     void p05_wordsAndNumbersAreToldWhole() {
-        for (String word : new String[] {"s", "st", "stati", "statio", "sto", "stops", "tr", "x", "from", "a", "1", "12", "1234"}) {
+        for (String word : new String[] {"s", "st", "stati", "statio", "sto", "stops", "tr", "x", "from", "a", "1", "12",
+            "1234"}) {
             check.fault(word, 1, 0);
             check.fault("stop 5;" + word, 1, 7);
             check.fault("stop 5;\n" + word + " a;", 1, 8);

@@ -15,7 +15,8 @@ public final class EdgesOfWorthTest extends Edges {
         check.is("all ten get there by him", all.worth(9), 110);
         check.is("one gets there himself", all.worth(0), 101);
         // g's stop at b makes all miss the train at c, which comes to d.
-        BornAboard none = Check.of(Lines.stations(4) + Lines.train("t", 0, 12, "a after 1 b after 1 d after 1 c") + Lines.train("us", 3, 12, "c after 1 d")
+        BornAboard none = Check.of(Lines.stations(4) + Lines.train("t", 0, 12, "a after 1 b after 1 d after 1 c")
+            + Lines.train("us", 3, 12, "c after 1 d")
             + Lines.people(9, 1, "a", "a", "d", 0) + Lines.person("g", 1, "b", "a", "d", 0));
         check.is("nine get there without him", none.worth(9), 91);
         check.is("nothing", none.worth(0), 100);
@@ -50,20 +51,23 @@ public final class EdgesOfWorthTest extends Edges {
     // ---- promise 26
 
     @Says({"BEAR: the STATION (what 0), GOOD then (1). NONE when there is none such, or for others.",
-        "the STATION where one, had he been born there, would make GOOD greatest (others as they are); of like ones the first."})
+        "the STATION where one, had he been born there, would make GOOD greatest (others as they are); of like ones the "
+            + "first."})
     void p26_theFirstAndTheLastStation() {
         String line = Lines.stations(14) + Lines.train("t", 0, 12, "a after 1 n after 1 m after 1 l");
         String p = Lines.person("p", 1, "a", "a", "l", 0);
         BornAboard last = Check.of(line + p + Lines.people(9, 1, "a", "a", "n", 0));
         row("the last one", what -> last.bear(0, what), 13, 10);
         row("one of those who wish it", what -> last.bear(9, what), 13, 10);
-        BornAboard both = Check.of(line + p + Lines.person("q", 1, "a", "a", "n", 0) + Lines.person("r", 1, "a", "a", "m", 0));
+        BornAboard both = Check.of(line + p + Lines.person("q", 1, "a", "a", "n", 0)
+            + Lines.person("r", 1, "a", "a", "m", 0));
         row("of like ones the first", what -> both.bear(0, what), 12, 2);
         BornAboard any = Check.of(line + p);
         row("wherever: the first", what -> any.bear(0, what), 0, 1);
         BornAboard nowhere = Check.of(Lines.stations(14) + Lines.people(10, 1, "n", "a", "b", 0));
         row("GOOD is 0 anyway", what -> nowhere.bear(9, what), 0, 0);
-        BornAboard between = Check.of(Lines.stations(3) + Lines.train("t", 0, 9, "a after 1 b after 1 c") + Lines.person("p", 1, "a b", "a", "b", 0));
+        BornAboard between = Check.of(Lines.stations(3) + Lines.train("t", 0, 9, "a after 1 b after 1 c")
+            + Lines.person("p", 1, "a b", "a", "b", 0));
         row("who was born between", what -> between.bear(0, what), 1, 1);
         row("he is as he was", what -> between.person(0, what), 1, 0, 1, 0, 1, 0, 0);
     }
@@ -89,14 +93,21 @@ public final class EdgesOfWorthTest extends Edges {
 
     // ---- promise 27
 
-    @Says({"STAY; NONE when there is none such.", "STAY: GOOD, had one never got off but at last STATIONS (his own wish counts as before)."})
+    @Says({"STAY; NONE when there is none such.",
+        "STAY: GOOD, had one never got off but at last STATIONS (his own wish counts as before)."})
     void p27_stay() {
         // p, born at c, gets off at b and takes the stop along that nine need.
-        BornAboard x = Check.of(Lines.stations(4) + Lines.train("t", 0, 12, "a after 1 b after 1 c after 1 d") + Lines.person("p", 1, "c", "a", "b", 0)
+        BornAboard x = Check.of(Lines.stations(4) + Lines.train("t", 0, 12, "a after 1 b after 1 c after 1 d")
+            + Lines.person("p", 1, "c", "a", "b", 0)
             + Lines.people(8, 1, "a", "a", "c", 0) + Lines.person("g", 1, "b", "a", "d", 0));
         check.is("GOOD", x.whole(5), 2);
         check.is("had he stayed: all but he", x.stay(0), 9);
         check.is("who gets off at the last one does so still", x.stay(9), 2);
+        BornAboard tenth = Check.of(Lines.stations(4) + Lines.train("t", 0, 12, "a after 1 b after 1 c after 1 d")
+            + Lines.person("g", 1, "b", "a", "d", 0)
+            + Lines.people(8, 1, "a", "a", "c", 0) + Lines.person("p", 1, "c", "a", "b", 0));
+        check.is("had the tenth stayed", tenth.stay(9), 9);
+        check.is("GOOD as before", tenth.whole(5), 2);
         BornAboard last = Check.of(ABC + Lines.person("p", 1, "b", "a", "b", 0));
         check.is("he gets there", last.whole(5), 1);
         check.is("his own wish counts", last.stay(0), 0);
@@ -118,16 +129,19 @@ public final class EdgesOfWorthTest extends Edges {
         row("seen(0, " + bits + ")", what -> x.seen(0, bits, what), due);
     }
 
-    @Says({"SEEN of a TRAIN: how many sets (what 0), people who are in all of them, as bits (1; 0 without sets), in some (2).",
+    @Says({"SEEN of a TRAIN: how many sets (what 0), people who are in all of them, as bits (1; 0 without sets), in some "
+        + "(2).",
         "sets of people (bits; any, wherever they are), by whose births (they go all the way) it would STOP just there."})
     void p28_fromNoSetTo1024() {
-        String eight = Lines.stations(9) + Lines.train("t", 0, 1, "a after 1 b after 1 c after 1 d after 1 e after 1 f after 1 g after 1 h");
+        String eight = Lines.stations(9) + Lines.train("t", 0, 1,
+            "a after 1 b after 1 c after 1 d after 1 e after 1 f after 1 g after 1 h");
         BornAboard nobody = Check.of(eight);
         seenAre(nobody, 129, 1, 0, 0);
         seenAre(nobody, 131, 0, 0, 0);
         seenAre(nobody, 255, 0, 0, 0);
         BornAboard ends = Check.of(eight + Lines.people(5, 1, "a", "i", "i", 0) + Lines.person("q", 1, "h", "i", "i", 0)
-            + Lines.person("r", 1, "i", "i", "i", 0) + Lines.person("s", 1, "b c", "i", "i", 0) + Lines.person("o", 1, "a", "i", "i", 0)
+            + Lines.person("r", 1, "i", "i", "i", 0) + Lines.person("s", 1, "b c", "i", "i", 0)
+            + Lines.person("o", 1, "a", "i", "i", 0)
             + Lines.person("n", 1, "h", "a", "h", 0));
         seenAre(ends, 129, 1024, 0, 1023);
         seenAre(ends, 131, 0, 0, 0);
@@ -141,21 +155,25 @@ public final class EdgesOfWorthTest extends Edges {
         seenAre(one, 193, 512, 512, 1023);
         seenAre(one, 255, 0, 0, 0);
         BornAboard each = Check.of(eight + Lines.person("pb", 1, "b", "i", "i", 0) + Lines.person("pc", 1, "c", "i", "i", 0)
-            + Lines.person("pd", 1, "d", "i", "i", 0) + Lines.person("pe", 1, "e", "i", "i", 0) + Lines.person("pf", 1, "f", "i", "i", 0)
+            + Lines.person("pd", 1, "d", "i", "i", 0) + Lines.person("pe", 1, "e", "i", "i", 0)
+            + Lines.person("pf", 1, "f", "i", "i", 0)
             + Lines.person("pg", 1, "g", "i", "i", 0));
         for (int bits = 129; bits < 256; bits += 2) {
             seenAre(each, bits, 1, bits / 2 % 64, bits / 2 % 64);
         }
-        seenAre(Check.of(Lines.stations(2) + Lines.train("t", 0, 1, "a after 1 b") + Lines.people(10, 1, "a", "a", "b", 0)), 3, 1024, 0, 1023);
+        seenAre(Check.of(Lines.stations(2) + Lines.train("t", 0, 1, "a after 1 b")
+            + Lines.people(10, 1, "a", "a", "b", 0)), 3, 1024, 0, 1023);
     }
 
-    @Says({"NONE when there is none such, SEEN can't be (bits beyond its STATIONS, without the first or the last), or for others.",
+    @Says({"NONE when there is none such, SEEN can't be (bits beyond its STATIONS, without the first or the last), or for "
+        + "others.",
         "SEEN of a TRAIN are STOPS by places among its STATIONS (bits; the first and the last are always set)"})
     void p28_whatCannotBeSeen() {
         BornAboard x = Check.of(Lines.SMALL);
         BornAboard y = Check.of(FullTest.full());
         for (int what = 0; what < 3; what++) {
-            for (int bits : new int[] {0, 1, 2, 3, 4, 6, 8, 9, 10, 13, 15, 5 | 256, 5 | 65536, 5 | 1 << 30, 5 | MIN, MIN, MAX, -1, -3}) {
+            for (int bits : new int[] {0, 1, 2, 3, 4, 6, 8, 9, 10, 13, 15, 5 | 256, 5 | 65536, 5 | 1 << 30, 5 | MIN, MIN, MAX,
+                -1, -3}) {
                 check.is("seen(0, " + bits + ", " + what + ") of 3", x.seen(0, bits, what), NONE);
             }
             for (int bits : new int[] {0, 1, 2, 4, 5, 7, 3 | 256, 3 | MIN, MIN, MAX, -1}) {
@@ -187,11 +205,13 @@ public final class EdgesOfWorthTest extends Edges {
         BornAboard all = Check.of(Lines.stations(14));
         row("all of 14", all::dead, 0, 1, 2, 3, 4, 5, 6, 7, 8, 9, 10, 11, 12, 13, NONE, NONE);
         noneOutside("dead", 13, all::dead);
-        BornAboard ends = Check.of(Lines.stations(4) + Lines.person("p", 1, "b", "a", "d", 0) + Lines.person("q", 1, "c", "a", "a", 0)
+        BornAboard ends = Check.of(Lines.stations(4) + Lines.person("p", 1, "b", "a", "d", 0)
+            + Lines.person("q", 1, "c", "a", "a", 0)
             + Lines.person("r", 1, "a d", "a", "a", 0));
         row("the ends", ends::dead, 0, 3, NONE);
         noneOutside("dead", 1, ends::dead);
-        BornAboard middle = Check.of(Lines.stations(3) + Lines.person("p", 1, "a", "b", "b", 0) + Lines.person("q", 1, "c", "b", "b", 0));
+        BornAboard middle = Check.of(Lines.stations(3) + Lines.person("p", 1, "a", "b", "b", 0)
+            + Lines.person("q", 1, "c", "b", "b", 0));
         row("the middle", middle::dead, 1, NONE);
         BornAboard none = Check.of(Lines.stations(1) + Lines.person("p", 1, "a", "a", "a", 0));
         row("none", none::dead, NONE, NONE);
@@ -210,8 +230,10 @@ public final class EdgesOfWorthTest extends Edges {
         return x;
     }
 
-    @Says({"n RUNS (1 .. 20) of some YEARS (1 .. 20): in how many a STATION is DEAD at the end (what 0), how many died in all together (1).",
-        "(Each call draws on.)", "RUNS: each some YEARS from now on (fewer beyond YEAR 9999); all is as it was then, but the seed."})
+    @Says({"n RUNS (1 .. 20) of some YEARS (1 .. 20): in how many a STATION is DEAD at the end (what 0), how many died in "
+        + "all together (1).",
+        "(Each call draws on.)", "RUNS: each some YEARS from now on (fewer beyond YEAR 9999); all is as it was then, but "
+            + "the seed."})
     void p30_1To20RunsOf1To20Years() {
         for (int[] row : new int[][] {{1, 1}, {1, 20}, {20, 1}, {20, 20}, {2, 3}}) {
             for (int what = 0; what < 2; what++) {
@@ -270,12 +292,14 @@ public final class EdgesOfWorthTest extends Edges {
         onlyAsks("runs that can't be", asks);
         check.is("the last STATION", Check.of(Lines.stations(14)).runs(20, 20, 13, 0), 20);
         noneOutside("STATION of 14", 13, s -> Check.of(Lines.stations(14)).runs(1, 1, s, 0));
-        changesOnly("runs that can be", Edges::start, x -> x.runs(20, 20, 3, 1), x -> x.seed((int) Draws.after(777, 1200)), NONE);
+        changesOnly("runs that can be", Edges::start, x -> x.runs(20, 20, 3, 1), x -> x.seed((int) Draws.after(777, 1200)),
+            NONE);
     }
 
     @Says("(fewer beyond YEAR 9999)")
     void p30_fewerYearsBeyond9999() {
-        int[][] rows = {{9979, 20, 20}, {9980, 20, 19}, {9998, 20, 1}, {9998, 1, 1}, {9999, 1, 0}, {9999, 20, 0}, {9989, 10, 10}, {9990, 10, 9}};
+        int[][] rows = {{9979, 20, 20}, {9980, 20, 19}, {9998, 20, 1}, {9998, 1, 1}, {9999, 1, 0}, {9999, 20, 0}, {9989, 10,
+            10}, {9990, 10, 9}};
         for (int[] row : rows) {
             BornAboard x = aged(50, "a", 9);
             Check.toYear(x, row[0]);
